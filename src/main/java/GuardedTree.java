@@ -22,8 +22,8 @@ public final class GuardedTree {
 
     private static final int TO_SERVER = 65, TO_CLIENT = 67;
 
-    private final Client client = new Client();
-    private final Server server = new Server();
+    private final Client clientSide = new Client();
+    private final Server serverSide = new Server();
     private final Line toServer = new Line();
     private final Line toClient = new Line();
     private int connections;
@@ -32,13 +32,13 @@ public final class GuardedTree {
     }
 
     public int connect(int seed) {
-        if (!server.disk.power) {
+        if (!serverSide.disk.power) {
             return NO_POWER;
         }
         endConnection();
         connections++;
-        client.begin(seed, toServer);
-        server.begin(seed);
+        clientSide.begin(seed, toServer);
+        serverSide.begin(seed);
         return connections;
     }
 
@@ -47,15 +47,15 @@ public final class GuardedTree {
     }
 
     public int client() {
-        return client.state;
+        return clientSide.state;
     }
 
     public int server() {
-        return server.disk.power ? server.state : NO_POWER;
+        return serverSide.disk.power ? serverSide.state : NO_POWER;
     }
 
     public int put(int v) {
-        return client.keepWord(v);
+        return clientSide.keepWord(v);
     }
 
     public int ask(int kind, int a, int b, int c, int d) throws IllegalArgumentException {
@@ -63,16 +63,16 @@ public final class GuardedTree {
             throw new IllegalArgumentException();
         }
         int size = REQUEST_BYTES + dataBytes(kind, c);
-        if (toServer.isFull() || !client.maySend(size)) {
+        if (toServer.isFull() || !clientSide.maySend(size)) {
             return NONE;
         }
-        client.composeRequest(kind, a, b, c, d);
-        client.out.send(toServer);
-        return client.asked;
+        clientSide.composeRequest(kind, a, b, c, d);
+        clientSide.out.send(toServer);
+        return clientSide.asked;
     }
 
     public int status(int id) {
-        Request request = client.find(id);
+        Request request = clientSide.find(id);
         if (request == null) {
             return UNKNOWN;
         }
@@ -80,7 +80,7 @@ public final class GuardedTree {
     }
 
     public int data(int id, int i) throws IndexOutOfBoundsException {
-        Request request = client.find(id);
+        Request request = clientSide.find(id);
         if (request == null || request.bytes == null || i < 0 || i >= request.bytes.length) {
             throw new IndexOutOfBoundsException();
         }
@@ -92,9 +92,9 @@ public final class GuardedTree {
             throw new IndexOutOfBoundsException();
         }
         if (side == 0) {
-            return client.state == OPEN ? client.out.allowance : 0;
+            return clientSide.state == OPEN ? clientSide.out.allowance : 0;
         }
-        return server.state == OPEN ? server.out.allowance : 0;
+        return serverSide.state == OPEN ? serverSide.out.allowance : 0;
     }
 
     public int way(int dir) throws IndexOutOfBoundsException {
@@ -122,9 +122,9 @@ public final class GuardedTree {
         int count = Math.max(0, Math.min(n, line.size));
         for (int i = 0; i < count; i++) {
             if (dir == 0) {
-                server.take(line.bytes[i] & 255, toClient);
+                serverSide.take(line.bytes[i] & 255, toClient);
             } else {
-                client.take(line.bytes[i] & 255, toServer);
+                clientSide.take(line.bytes[i] & 255, toServer);
             }
         }
         line.drop(count);
@@ -133,30 +133,30 @@ public final class GuardedTree {
 
     public boolean cut(int n, int tear) {
         // A torn block has its last word missing at least, so it never counts, wherever it is torn.
-        if (!server.disk.power || n < -1 || n > 1000 || tear < 0 || tear > 31) {
+        if (!serverSide.disk.power || n < -1 || n > 1000 || tear < 0 || tear > 31) {
             return false;
         }
-        server.disk.blocksLeft = n;
+        serverSide.disk.blocksLeft = n;
         return true;
     }
 
     public int start() {
-        if (server.disk.power) {
+        if (serverSide.disk.power) {
             return NONE;
         }
-        server.disk.power = true;
-        return server.disk.written;
+        serverSide.disk.power = true;
+        return serverSide.disk.written;
     }
 
     public int changes() {
-        return server.disk.power ? server.disk.written : NO_POWER;
+        return serverSide.disk.power ? serverSide.disk.written : NO_POWER;
     }
 
     private void endConnection() {
         toServer.size = 0;
         toClient.size = 0;
-        client.end(APART);
-        server.end(APART);
+        clientSide.end(APART);
+        serverSide.end(APART);
     }
 
     private Line line(int dir) {

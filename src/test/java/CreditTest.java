@@ -8,6 +8,7 @@ final class CreditTest {
         serverGrants();
         clientGrants();
         repliesWait();
+        lastBytesOfCredit();
         waitingRepliesVanish();
         clientIsHeldBack();
         clientsGrantIsHeldBack();
@@ -149,6 +150,19 @@ final class CreditTest {
             CHECK.due("status " + id, pair.status(id), 64);
         }
         CHECK.due("status 9", pair.status(9), 2);
+    }
+
+    private static void lastBytesOfCredit() {
+        CHECK.about("a reply for which there is just enough credit, and one byte less");
+        for (int count : new int[] {26, 27}) {
+            Pair pair = withFile(1);
+            for (int i = 0; i < 5; i++) {
+                pair.ask(3, 1, 0, 64, 0);
+            }
+            pair.ask(3, 1, 0, count, 0);
+            pair.move(0, Pair.ALL);
+            CHECK.due("credit(1), a reply with " + count, pair.credit(1), count == 26 ? 0 : 35);
+        }
     }
 
     private static void waitingRepliesVanish() {

@@ -30,6 +30,11 @@ final class Pair {
         return got;
     }
 
+    /** Exactly what the document says is thrown, not an exception below it that came by itself. */
+    private static int thrown(RuntimeException e, Class<?> due) {
+        return e.getClass() == due ? THROWN : THROWN + 1;
+    }
+
     int connect(int seed) {
         return same("connect(" + seed + ")", tree.connect(seed), model.connect(seed));
     }
@@ -57,7 +62,7 @@ final class Pair {
         try {
             got = tree.ask(kind, a, b, c, d);
         } catch (IllegalArgumentException e) {
-            got = THROWN;
+            got = thrown(e, IllegalArgumentException.class);
         }
         return same("ask" + Arrays.toString(new int[] {kind, a, b, c, d}), got, model.ask(kind, a, b, c, d));
     }
@@ -71,7 +76,7 @@ final class Pair {
         try {
             got = tree.data(id, i);
         } catch (IndexOutOfBoundsException e) {
-            got = THROWN;
+            got = thrown(e, IndexOutOfBoundsException.class);
         }
         return same("data(" + id + ", " + i + ")", got, model.data(id, i));
     }
@@ -81,7 +86,7 @@ final class Pair {
         try {
             got = tree.credit(side);
         } catch (IndexOutOfBoundsException e) {
-            got = THROWN;
+            got = thrown(e, IndexOutOfBoundsException.class);
         }
         return same("credit(" + side + ")", got, model.credit(side));
     }
@@ -91,7 +96,7 @@ final class Pair {
         try {
             got = tree.way(dir);
         } catch (IndexOutOfBoundsException e) {
-            got = THROWN;
+            got = thrown(e, IndexOutOfBoundsException.class);
         }
         return same("way(" + dir + ")", got, model.way(dir));
     }
@@ -101,7 +106,7 @@ final class Pair {
         try {
             got = tree.octet(dir, i);
         } catch (IndexOutOfBoundsException e) {
-            got = THROWN;
+            got = thrown(e, IndexOutOfBoundsException.class);
         }
         return same("octet(" + dir + ", " + i + ")", got, model.octet(dir, i));
     }
@@ -111,7 +116,7 @@ final class Pair {
         try {
             tree.alter(dir, i, mask);
         } catch (IndexOutOfBoundsException e) {
-            got = THROWN;
+            got = thrown(e, IndexOutOfBoundsException.class);
         }
         return same("alter(" + dir + ", " + i + ", " + mask + ")", got, model.alter(dir, i, mask));
     }
@@ -121,7 +126,7 @@ final class Pair {
         try {
             got = tree.move(dir, n);
         } catch (IndexOutOfBoundsException e) {
-            got = THROWN;
+            got = thrown(e, IndexOutOfBoundsException.class);
         }
         return same("move(" + dir + ", " + n + ")", got, model.move(dir, n));
     }
