@@ -57,6 +57,9 @@ final class RandomTest {
 
     private void ask() {
         int kind = flavour == 1 ? 3 + random.nextInt(2) : random.nextInt(chance(1) ? 12 : 10);
+        if (kind == 4 && chance(50)) {
+            pair.put(random.nextInt());
+        }
         int id = pair.ask(kind, node(), second(kind), third(kind), random.nextInt(3));
         if (id > 0) {
             lastId = id;

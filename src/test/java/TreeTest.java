@@ -14,6 +14,7 @@ final class TreeTest {
         write();
         fileIsFull();
         blocksRunOut();
+        blocksAreGivenBack();
         shorten();
         remove();
         relocate();
@@ -223,6 +224,46 @@ final class TreeTest {
         due(pair, GuardedTree.NO_ROOM, 4, 9, 127, 64, 0);
         due(pair, 1024, 6, 1, 0, 0, 0);
         due(pair, 64, 4, 9, 127, 64, 0);
+    }
+
+    /** What a file holds from a byte on: the first of those bytes. */
+    private static int firstByte(Pair pair, int node, int from) {
+        int id = pair.ask(3, node, from, 1, 0);
+        pair.moveAll();
+        CHECK.due("READ of one byte", pair.status(id), 1);
+        CHECK.due("no second one", pair.data(id, 1), Pair.THROWN);
+        return pair.data(id, 0);
+    }
+
+    private static void blocksAreGivenBack() {
+        CHECK.about("files keep their own bytes when blocks are given back and taken again");
+        Pair pair = tree();
+        due(pair, 10, 6, 2, 0, 0, 0);
+        for (int node = 2; node <= 7; node += node == 2 ? 3 : 1) {
+            due(pair, node, FILE, 0, node, node, 0);
+        }
+        int[] nodes = {2, 5, 6, 7};
+        for (int at = 0; at < 256; at += 64) {
+            for (int node : nodes) {
+                pair.put(node * 16 + at / 64 << 24);
+                due(pair, 64, 4, node, at, 64, 0);
+            }
+        }
+        due(pair, 256, 6, 5, 0, 0, 0);
+        due(pair, 256, 5, 2, 64, 0, 0);
+        due(pair, 5, FILE, 0, 5, 5, 0);
+        for (int at = 0; at < 448; at += 64) {
+            pair.put(0xff000000);
+            due(pair, 64, 4, 5, at, 64, 0);
+        }
+        CHECK.due("file 2", firstByte(pair, 2, 0), 0x20);
+        for (int part = 0; part < 4; part++) {
+            CHECK.due("file 6", firstByte(pair, 6, 64 * part), 0x60 + part);
+            CHECK.due("file 7", firstByte(pair, 7, 64 * part), 0x70 + part);
+        }
+        for (int part = 0; part < 7; part++) {
+            CHECK.due("file 5", firstByte(pair, 5, 64 * part), 0xff);
+        }
     }
 
     private static void shorten() {
