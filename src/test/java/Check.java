@@ -3,6 +3,7 @@ final class Check {
     private static final int MOST_LINES = 20;
 
     private final String name;
+    private final Document document = new Document();
     private String about = "";
     private int wrong;
     private int looked;
@@ -14,6 +15,14 @@ final class Check {
     /** What the next answers are about. */
     void about(String what) {
         about = what;
+    }
+
+    /** The next answers are about a sentence, or a part of one: the section in which it stands, and its very words. */
+    void sentence(String section, String words) {
+        about(section + ": \"" + words + "\"");
+        if (!document.holds(section, words)) {
+            fail("the document does not say so");
+        }
     }
 
     void due(String call, long got, long want) {

@@ -1,327 +1,400 @@
-/** Promise 10 and CREDIT: what each side may send, grants, and what waits. */
+/** CREDIT and promise 10: what each side may send, grants, what waits, and 3000 bytes on the way. */
 final class CreditTest {
     private static final Check CHECK = new Check("CreditTest");
 
     public static void main(String[] args) {
         sides();
-        spending();
-        serverGrants();
-        clientGrants();
-        repliesWait();
-        lastBytesOfCredit();
-        waitingRepliesVanish();
-        clientIsHeldBack();
-        clientsGrantIsHeldBack();
-        serverIsHeldBack();
+        creditIsOfOpenSides();
+        clientsFourHundredBytes();
+        serversFourHundredBytes();
+        grantsCostNothing();
+        asMuchMoreAsGranted();
+        clientGrantsFromTwoHundred();
+        clientGrantsBehindThatReply();
+        repliesInTheirOrder();
+        creditForTheFirstReply();
+        serverGrantsFromTwoHundred();
+        serverGrantsForRepliesThatWentOut();
+        looksBehindEachPacket();
+        requestsAtThreeThousand();
+        clientsGrantAtThreeThousand();
+        repliesAtThreeThousand();
+        serversGrantAtThreeThousand();
+        neverWithoutAlterations();
         CHECK.end();
     }
 
     private static void sides() {
-        CHECK.about("promise 10, sides");
-        Pair pair = new Pair(CHECK);
+        CHECK.sentence("Promise 10", "IndexOutOfBoundsException.");
+        Pair pair = Pair.opened(CHECK, 1);
         for (int side : new int[] {-1, 2, Integer.MIN_VALUE, Integer.MAX_VALUE}) {
-            CHECK.due("credit(" + side + ")", pair.credit(side), Pair.THROWN);
+            pair.refused("credit(" + side + ")", () -> pair.credit(side), Pair.THROWN);
         }
-        CHECK.due("no connection", pair.credit(0), 0);
-        CHECK.due("no connection", pair.credit(1), 0);
-        pair.connect(1);
-        CHECK.due("not open", pair.credit(0), 0);
-        CHECK.due("not open", pair.credit(1), 0);
-        pair.move(0, 32);
-        CHECK.due("not open", pair.credit(0), 0);
-        CHECK.due("open", pair.credit(1), 400);
-        pair.move(1, 96);
-        CHECK.due("open", pair.credit(0), 400);
-        pair.alter(0, 0, 0);
-        pair.ask(8, 0, 0, 0, 0);
-        pair.alter(0, 0, 255);
-        pair.move(0, 64);
-        CHECK.due("over", pair.credit(1), 0);
-        CHECK.due("the other one", pair.credit(0), 378);
-        pair.open(1);
-        CHECK.due("anew", pair.credit(0), 400);
-        CHECK.due("anew", pair.credit(1), 400);
-        pair.cut(0, 0);
-        pair.ask(1, 0, 1, 1, 0);
-        pair.move(0, 64);
-        CHECK.due("no power", pair.credit(1), 0);
-        CHECK.due("the client is as it was", pair.credit(0), 378);
-        pair.start();
-        CHECK.due("no connection", pair.credit(1), 0);
-        CHECK.due("the client is as it was", pair.credit(0), 378);
-    }
-
-    private static void spending() {
-        CHECK.about("promise 10, what payloads cost");
-        Pair pair = new Pair(CHECK);
-        pair.open(1);
-        pair.ask(8, 0, 0, 0, 0);
-        CHECK.due("22 bytes", pair.credit(0), 378);
-        pair.ask(4, 1, 0, 10, 0);
-        CHECK.due("32 bytes more", pair.credit(0), 346);
-        CHECK.due("nothing came yet", pair.credit(1), 400);
-        pair.move(0, Pair.ALL);
-        CHECK.due("two replies", pair.credit(1), 382);
-        CHECK.due("no grant yet", pair.move(1, Pair.ALL), 128);
-        CHECK.due("credit(0)", pair.credit(0), 346);
-        CHECK.due("credit(1)", pair.credit(1), 382);
-    }
-
-    private static void serverGrants() {
-        CHECK.about("the server's grants");
-        Pair pair = new Pair(CHECK);
-        pair.open(1);
-        for (int i = 0; i < 8; i++) {
-            pair.ask(8, 0, 0, 0, 0);
-        }
-        pair.ask(4, 9, 0, 1, 0);
-        pair.move(0, Pair.ALL);
-        CHECK.due("199 bytes, no grant", pair.way(1), 9 * 64);
-        pair.ask(8, 0, 0, 0, 0);
-        pair.move(0, Pair.ALL);
-        CHECK.due("221 bytes, a grant", pair.way(1), 10 * 64 + 48);
-        pair.move(1, 10 * 64 + 47);
-        CHECK.due("before it", pair.credit(0), 179);
-        pair.move(1, 1);
-        CHECK.due("behind it", pair.credit(0), 400);
-
-        pair = new Pair(CHECK);
-        pair.open(1);
-        for (int i = 0; i < 8; i++) {
-            pair.ask(8, 0, 0, 0, 0);
-        }
-        pair.ask(4, 9, 0, 2, 0);
-        pair.move(0, Pair.ALL);
-        CHECK.due("200 bytes, a grant", pair.way(1), 9 * 64 + 48);
-        pair.move(1, Pair.ALL);
         CHECK.due("credit(0)", pair.credit(0), 400);
+        CHECK.due("credit(1)", pair.credit(1), 400);
     }
 
-    /** A file 1 with 64 bytes. */
-    private static Pair withFile(int seed) {
+    private static void creditIsOfOpenSides() {
+        CHECK.sentence("Promise 10",
+            "How many bytes a side (0 the client, 1 the server) may send; 0 when it is not open.");
         Pair pair = new Pair(CHECK);
-        pair.open(seed);
-        pair.done(2, 0, 1, 1);
-        pair.done(4, 1, 0, 64);
-        pair.open(seed);
-        return pair;
-    }
-
-    private static void clientGrants() {
-        CHECK.about("the client's grants");
-        Pair pair = withFile(1);
-        pair.done(3, 1, 0, 64);
-        pair.done(3, 1, 0, 64);
-        pair.done(3, 1, 0, 44);
-        CHECK.due("199 bytes, no grant", pair.way(0), 0);
-        CHECK.due("credit(1)", pair.credit(1), 201);
-        pair.done(8, 0, 0, 0);
-        CHECK.due("208 bytes, a grant", pair.way(0), 48);
-        CHECK.due("credit(1)", pair.credit(1), 192);
-        pair.move(0, 47);
-        CHECK.due("before it", pair.credit(1), 192);
+        credits("no connection", pair, 0, 0);
+        pair.connect(1);
+        credits("agreeing", pair, 0, 0);
+        pair.move(0, 31);
+        credits("31 bytes came", pair, 0, 0);
         pair.move(0, 1);
-        CHECK.due("behind it", pair.credit(1), 400);
-
-        pair = withFile(1);
-        pair.done(3, 1, 0, 64);
-        pair.done(3, 1, 0, 64);
-        pair.done(3, 1, 0, 45);
-        CHECK.due("200 bytes, a grant", pair.way(0), 48);
+        credits("the server is open", pair, 0, 400);
+        pair.move(1, 95);
+        credits("95 bytes came", pair, 0, 400);
+        pair.move(1, 1);
+        credits("both are open", pair, 400, 400);
+        pair.askMany(2, 8);
+        pair.move(0, 64);
+        credits("spent", pair, 356, 391);
+        pair.fault(0, 5);
+        credits("the server is over", pair, 356, 0);
+        pair.fault(1, 5);
+        credits("both are over", pair, 0, 0);
+        pair.open(1);
+        credits("anew", pair, 400, 400);
+        pair.losePower();
+        credits("no power", pair, 378, 0);
+        pair.start();
+        credits("power, but no connection", pair, 378, 0);
+        pair.close();
+        credits("closed", pair, 0, 0);
     }
 
-    private static void repliesWait() {
-        CHECK.about("replies that wait");
-        Pair pair = withFile(1);
-        for (int i = 0; i < 6; i++) {
-            pair.ask(3, 1, 0, 64, 0);
+    private static void credits(String when, Pair pair, int client, int server) {
+        CHECK.due("credit(0), " + when, pair.credit(0), client);
+        CHECK.due("credit(1), " + when, pair.credit(1), server);
+    }
+
+    private static void clientsFourHundredBytes() {
+        CHECK.sentence("Terms", "Each side may send 400 bytes of payloads of requests or replies");
+        Pair pair = Pair.opened(CHECK, 1);
+        for (int i = 1; i <= 18; i++) {
+            CHECK.due("ask", pair.ask(8, 0, 0, 0, 0), i);
+            CHECK.due("credit(0)", pair.credit(0), 400 - 22 * i);
         }
+        pair.refused("ask with 4 left", () -> pair.ask(8, 0, 0, 0, 0), GuardedTree.NONE);
+        Pair other = Pair.opened(CHECK, 1);
+        other.askMany(4, 4);
+        CHECK.due("credit(0)", other.credit(0), 56);
+        other.refused("WRITE of 35 with 56 left", () -> other.ask(4, 1, 0, 35, 0), GuardedTree.NONE);
+        CHECK.due("WRITE of 34 with 56 left", other.ask(4, 1, 0, 34, 0), 5);
+        CHECK.due("credit(0)", other.credit(0), 0);
+        other.refused("ask with nothing left", () -> other.ask(8, 0, 0, 0, 0), GuardedTree.NONE);
+    }
+
+    private static void serversFourHundredBytes() {
+        CHECK.sentence("Terms", "Each side may send 400 bytes of payloads of requests or replies");
+        for (int last : new int[] {26, 27}) {
+            Pair pair = Pair.withFile(CHECK);
+            pair.askMany(5, 3);
+            pair.ask(3, 1, 0, last, 0);
+            pair.move(0, Pair.ALL);
+            CHECK.due("credit(1), a sixth reply of " + (9 + last), pair.credit(1), last == 26 ? 0 : 35);
+            CHECK.due("way(1)", pair.way(1), 5 * 128 + (last == 26 ? 80 : 0));
+        }
+    }
+
+    private static void grantsCostNothing() {
+        CHECK.sentence("Terms", "(grants cost nothing)");
+        Pair pair = Pair.opened(CHECK, 1);
+        pair.askMany(10, 8);
+        pair.move(0, Pair.ALL);
+        CHECK.due("way(1), ten replies and a grant", pair.way(1), 10 * 64 + 48);
+        CHECK.due("credit(1)", pair.credit(1), 400 - 10 * 9);
+        pair = Pair.withFile(CHECK);
+        pair.askMany(3, 3);
+        pair.move(0, Pair.ALL);
+        pair.move(1, Pair.ALL);
+        CHECK.due("way(0), a grant", pair.way(0), 48);
+        CHECK.due("credit(0)", pair.credit(0), 400 - 3 * 22);
+    }
+
+    private static void asMuchMoreAsGranted() {
+        CHECK.sentence("Terms", "and as much more as it is granted");
+        Pair pair = Pair.opened(CHECK, 1);
+        pair.askMany(18, 8);
+        pair.move(0, Pair.ALL);
+        pair.move(1, 10 * 64 + 47);
+        CHECK.due("credit(0) before the grant's last byte", pair.credit(0), 4);
+        CHECK.due("ask", pair.ask(8, 0, 0, 0, 0), GuardedTree.NONE);
+        pair.move(1, 1);
+        CHECK.due("credit(0) behind it", pair.credit(0), 4 + 220);
+        for (int i = 1; i <= 10; i++) {
+            CHECK.due("ask", pair.ask(8, 0, 0, 0, 0), 18 + i);
+        }
+        CHECK.due("credit(0)", pair.credit(0), 4);
+        CHECK.due("ask", pair.ask(8, 0, 0, 0, 0), GuardedTree.NONE);
+    }
+
+    private static void clientGrantsFromTwoHundred() {
+        CHECK.sentence("Terms", "when those opened since its last grant had 200 bytes or more, it grants as much");
+        for (int last : new int[] {44, 45}) {
+            Pair pair = Pair.withFile(CHECK);
+            pair.done(3, 1, 0, 64);
+            pair.done(3, 1, 0, 64);
+            CHECK.due("way(0) with 146", pair.way(0), 0);
+            pair.done(3, 1, 0, last);
+            CHECK.due("way(0) with " + (155 + last), pair.way(0), last == 45 ? 48 : 0);
+            pair.move(0, 47);
+            CHECK.due("credit(1) before its last byte", pair.credit(1), 400 - 155 - last);
+            pair.move(0, 1);
+            CHECK.due("credit(1)", pair.credit(1), last == 45 ? 400 : 201);
+            pair.done(8, 1, 0, 0);
+            CHECK.due("way(0), a reply more", pair.way(0), last == 45 ? 0 : 48);
+        }
+    }
+
+    private static void clientGrantsBehindThatReply() {
+        CHECK.sentence("Terms", "The client opens replies as they come");
+        Pair pair = Pair.withFile(CHECK);
+        pair.askMany(4, 3);
+        pair.move(0, Pair.ALL);
+        pair.move(1, 3 * 128 - 1);
+        CHECK.due("way(0) before the third reply's last byte", pair.way(0), 0);
+        pair.move(1, 1);
+        CHECK.due("way(0) behind it", pair.way(0), 48);
+        CHECK.due("how much", Flow.word(pair.model.lastSent[0], 1), 219);
+        pair.lookAtAll(0, 0);
+        pair.move(1, Pair.ALL);
+        CHECK.due("way(0) behind the fourth", pair.way(0), 48);
+        pair.move(0, 48);
+        CHECK.due("credit(1)", pair.credit(1), 400 - 73);
+    }
+
+    private static void repliesInTheirOrder() {
+        CHECK.sentence("Terms", "in their order; their replies wait in a row, and go out one by one");
+        Pair pair = Pair.withFile(CHECK);
+        pair.askMany(6, 3);
         pair.ask(8, 1, 0, 0, 0);
         pair.move(0, Pair.ALL);
-        CHECK.due("five went out, 35 bytes are left", pair.credit(1), 35);
-        CHECK.due("none overtakes the first", pair.way(1), 5 * 128);
+        CHECK.due("way(1), five went out", pair.way(1), 5 * 128);
+        CHECK.due("credit(1), enough for the seventh", pair.credit(1), 35);
         pair.move(1, 3 * 128);
-        CHECK.due("the client's grant", pair.way(0), 48);
         pair.move(0, Pair.ALL);
-        CHECK.due("two more went out", pair.credit(1), 35 + 219 - 73 - 9);
-        CHECK.due("way(1)", pair.way(1), 3 * 128 + 64);
+        CHECK.due("way(1), two more went out", pair.way(1), 3 * 128 + 64);
+        CHECK.due("credit(1)", pair.credit(1), 35 + 219 - 73 - 9);
         pair.moveAll();
         for (int id = 3; id <= 8; id++) {
-            CHECK.due("status " + id, pair.status(id), 64);
+            CHECK.due("status(" + id + ")", pair.status(id), 64);
         }
-        CHECK.due("status 9", pair.status(9), 2);
+        CHECK.due("status(9)", pair.status(9), 2);
     }
 
-    private static void lastBytesOfCredit() {
-        CHECK.about("a reply for which there is just enough credit, and one byte less");
-        for (int count : new int[] {26, 27}) {
-            Pair pair = withFile(1);
-            for (int i = 0; i < 5; i++) {
-                pair.ask(3, 1, 0, 64, 0);
-            }
-            pair.ask(3, 1, 0, count, 0);
+    private static void creditForTheFirstReply() {
+        CHECK.sentence("Terms", "as long as there is credit for the first one");
+        for (int amount : new int[] {37, 38}) {
+            Pair pair = Pair.withFile(CHECK);
+            pair.askMany(7, 3);
+            pair.move(0, 6 * 64);
+            CHECK.due("credit(1), 73 are needed", pair.credit(1), 35);
+            pair.forgePayload(0, Flow.grant(amount));
+            pair.move(0, 64);
+            CHECK.due("credit(1), " + amount + " more", pair.credit(1), amount == 38 ? 0 : 72);
+            CHECK.due("way(1)", pair.way(1), (amount == 38 ? 6 : 5) * 128);
+        }
+    }
+
+    private static void serverGrantsFromTwoHundred() {
+        CHECK.sentence("Terms",
+            "requests whose replies went out since its last grant had 200 bytes or more, it grants as much");
+        for (int last : new int[] {1, 2}) {
+            Pair pair = Pair.opened(CHECK, 1);
+            pair.askMany(8, 8);
+            pair.ask(4, 9, 0, last, 0);
             pair.move(0, Pair.ALL);
-            CHECK.due("credit(1), a reply with " + count, pair.credit(1), count == 26 ? 0 : 35);
+            CHECK.due("way(1) with " + (198 + last), pair.way(1), 9 * 64 + (last == 2 ? 48 : 0));
+            pair.ask(8, 0, 0, 0, 0);
+            pair.move(0, Pair.ALL);
+            CHECK.due("way(1), a reply more", pair.way(1), 10 * 64 + 48);
+            CHECK.due("how much", last == 2 || Flow.word(pair.model.lastSent[1], 1) == 221, true);
+            pair.move(1, Pair.ALL);
+            CHECK.due("credit(0)", pair.credit(0), last == 2 ? 378 : 400);
         }
     }
 
-    private static void waitingRepliesVanish() {
-        CHECK.about("replies that wait vanish with a fault");
-        Pair pair = withFile(1);
-        for (int i = 0; i < 7; i++) {
-            pair.ask(3, 1, 0, 64, 0);
-        }
-        pair.move(0, 6 * 64);
-        CHECK.due("way(1)", pair.way(1), 5 * 128);
-        pair.alter(0, 40, 1);
-        pair.move(0, 64);
-        CHECK.due("server()", pair.server(), -5);
-        pair.move(1, Pair.ALL);
-        CHECK.due("the client's grant", pair.move(0, Pair.ALL), 48);
-        CHECK.due("nothing more", pair.way(1), 0);
-        CHECK.due("status 7", pair.status(7), 64);
-        CHECK.due("status 8", pair.status(8), GuardedTree.PENDING);
-        pair.open(2);
-        CHECK.due("nothing of old on a new connection", pair.done(8, 0, 0, 0), 1);
+    private static void serverGrantsForRepliesThatWentOut() {
+        CHECK.sentence("Terms", "requests whose replies went out");
+        Pair pair = Pair.withFile(CHECK);
+        pair.askMany(18, 3);
+        pair.move(0, Pair.ALL);
+        CHECK.due("way(1), 396 bytes came, 110 were answered", pair.way(1), 5 * 128);
+        pair.move(1, 3 * 128);
+        pair.move(0, Pair.ALL);
+        CHECK.due("way(1), 176 were answered", pair.way(1), 5 * 128);
+        pair.move(1, 3 * 128);
+        pair.move(0, Pair.ALL);
+        CHECK.due("way(1), the tenth reply, the grant, and the eleventh", pair.way(1), 5 * 128 + 48);
+        CHECK.due("credit(1)", pair.credit(1), 400 + 2 * 219 - 11 * 73);
     }
 
-    /** So many requests of 22 bytes. */
-    private static void askMany(Pair pair, int count, int kind) {
-        for (int i = 0; i < count; i++) {
-            pair.ask(kind, 1, 0, 64, 0);
-        }
+    private static void looksBehindEachPacket() {
+        CHECK.sentence("Terms", "Behind each packet that it opened it looks which replies can go.");
+        Pair pair = Pair.withFile(CHECK);
+        pair.askMany(6, 3);
+        pair.move(0, Pair.ALL);
+        pair.move(1, 3 * 128);
+        pair.move(0, 47);
+        CHECK.due("way(1) before the grant's last byte", pair.way(1), 2 * 128);
+        pair.move(0, 1);
+        CHECK.due("way(1) behind it", pair.way(1), 3 * 128);
+        pair.ask(8, 0, 0, 0, 0);
+        pair.move(0, 63);
+        CHECK.due("way(1) before a request's last byte", pair.way(1), 3 * 128);
+        pair.move(0, 1);
+        CHECK.due("way(1) behind it", pair.way(1), 3 * 128 + 64);
     }
 
-    /** A request comes to the server, and its reply to the client as a grant that nobody gave. */
-    private static void grantClient(Pair pair, int amount) {
-        pair.move(0, 64);
+    /** The first reply on the way to the client comes to it as a grant that nobody gave. */
+    private static void grantClient(Pair pair, int amount, int bytes) {
         pair.forgePayload(1, Flow.grant(amount));
-        pair.move(1, 64);
-        CHECK.due("client()", pair.client(), 2);
+        pair.move(1, bytes);
+        CHECK.due("client(), a forged grant", pair.client(), 2);
     }
 
-    private static void clientIsHeldBack() {
-        CHECK.about("3000 bytes on the way from the client");
-        Pair pair = new Pair(CHECK);
-        pair.open(1);
-        askMany(pair, 18, 8);
-        grantClient(pair, 396);
-        CHECK.due("credit(0)", pair.credit(0), 400);
-        askMany(pair, 18, 8);
-        grantClient(pair, 396);
-        askMany(pair, 12, 8);
+    private static void requestsAtThreeThousand() {
+        CHECK.sentence("Terms",
+            "A side sends nothing while 3000 bytes or more are on the way from it: requests are refused");
+        Pair pair = Pair.opened(CHECK, 1);
+        for (int i = 0; i < 2; i++) {
+            pair.askMany(18, 8);
+            pair.move(0, 64);
+            grantClient(pair, 396, 64);
+        }
+        pair.askMany(12, 8);
         CHECK.due("way(0)", pair.way(0), 46 * 64);
-        CHECK.due("at 2944", pair.ask(8, 0, 0, 0, 0), 49);
-        CHECK.due("way(0)", pair.way(0), 3008);
+        CHECK.due("ask at 2944", pair.ask(8, 0, 0, 0, 0), 49);
         pair.put(1);
-        CHECK.due("at 3008", pair.ask(8, 0, 0, 0, 0), GuardedTree.NONE);
-        CHECK.due("at 3008", pair.ask(4, 0, 0, 1, 0), GuardedTree.NONE);
+        CHECK.due("way(0)", pair.way(0), 3008);
+        CHECK.due("ask at 3008", pair.ask(8, 0, 0, 0, 0), GuardedTree.NONE);
+        CHECK.due("WRITE at 3008", pair.ask(4, 0, 0, 1, 0), GuardedTree.NONE);
         CHECK.due("the data stays", pair.put(1), 2);
         CHECK.due("there is credit", pair.credit(0), 400 - 13 * 22);
         pair.move(0, 8);
-        CHECK.due("at 3000", pair.ask(8, 0, 0, 0, 0), GuardedTree.NONE);
+        CHECK.due("ask at 3000", pair.ask(8, 0, 0, 0, 0), GuardedTree.NONE);
+        CHECK.due("way(0)", pair.way(0), 3000);
+        CHECK.due("credit(0)", pair.credit(0), 400 - 13 * 22);
+        CHECK.due("status(50)", pair.status(50), GuardedTree.UNKNOWN);
         pair.move(0, 1);
-        CHECK.due("at 2999", pair.ask(8, 0, 0, 0, 0), 50);
+        CHECK.due("ask at 2999", pair.ask(8, 0, 0, 0, 0), 50);
         CHECK.due("way(0)", pair.way(0), 3063);
     }
 
-    private static void clientsGrantIsHeldBack() {
-        CHECK.about("3000 bytes on the way when the client would grant");
-        Pair pair = withFile(1);
-        askMany(pair, 18, 3);
+    /** 47 reads on the way to the server, and three replies of 73 bytes on the way to the client. */
+    private static Pair crowdedToServer() {
+        Pair pair = Pair.withFile(CHECK);
+        pair.askMany(18, 3);
         pair.move(0, 64);
-        pair.forgePayload(1, Flow.grant(396));
-        pair.move(1, 128);
-        askMany(pair, 18, 3);
+        grantClient(pair, 396, 128);
+        pair.askMany(18, 3);
         pair.move(0, 4 * 64);
-        CHECK.due("way(1)", pair.way(1), 4 * 128);
-        pair.forgePayload(1, Flow.grant(396));
-        pair.move(1, 128);
-        askMany(pair, 16, 3);
+        grantClient(pair, 396, 128);
+        pair.askMany(16, 3);
         CHECK.due("way(0)", pair.way(0), 47 * 64);
-        pair.move(1, Pair.ALL);
-        CHECK.due("219 bytes were opened, no grant", pair.way(0), 47 * 64);
-        pair.move(0, 64);
-        CHECK.due("no credit for one more", pair.way(1), 0);
+        CHECK.due("way(1)", pair.way(1), 3 * 128);
+        return pair;
+    }
+
+    private static void clientsGrantAtThreeThousand() {
+        CHECK.sentence("Terms", "and a grant comes behind a later reply, with all there is to grant by then");
+        Pair below = crowdedToServer();
+        below.move(0, 9);
+        below.move(1, 3 * 128);
+        CHECK.due("way(0), 219 bytes opened at 2999", below.way(0), 2999 + 48);
+        Pair pair = crowdedToServer();
+        pair.move(0, 8);
+        pair.move(1, 3 * 128);
+        CHECK.due("way(0), 219 bytes opened at 3000", pair.way(0), 3000);
+        pair.move(0, 56);
+        CHECK.due("way(0), nothing goes by itself", pair.way(0), 46 * 64);
         pair.forgePayload(0, Flow.grant(100));
         pair.move(0, 64);
-        CHECK.due("its reply", pair.way(1), 128);
+        CHECK.due("way(1), a later reply", pair.way(1), 128);
         pair.move(1, 128);
-        CHECK.due("all there is to grant by then", pair.way(0), 45 * 64 + 48);
+        CHECK.due("way(0), the grant behind it", pair.way(0), 45 * 64 + 48);
+        CHECK.due("how much", Flow.word(pair.model.lastSent[0], 1), 4 * 73);
+        pair.lookAtAll(0, 45 * 64);
         CHECK.due("client()", pair.client(), 2);
+    }
+
+    /** 45 replies of 9 bytes (two of them taken away) and four grants on the way to the client; 110 bytes to grant. */
+    private static Pair crowdedToClient() {
+        Pair pair = Pair.opened(CHECK, 1);
+        for (int i = 0; i < 2; i++) {
+            pair.askMany(18, 8);
+            pair.move(0, Pair.ALL);
+            grantClient(pair, 396, 64);
+        }
+        pair.ask(8, 0, 0, 0, 0);
+        pair.forgePayload(0, Flow.grant(36 * 9));
+        pair.askMany(9, 8);
+        pair.move(0, Pair.ALL);
+        CHECK.due("way(1)", pair.way(1), 43 * 64 + 4 * 48);
         CHECK.due("server()", pair.server(), 2);
+        return pair;
     }
 
-    /** Comes to the server: reads of file 1, of which one in six is altered into a grant. */
-    private static void serveReads(Pair pair, int sixes) {
-        for (int i = 0; i < sixes; i++) {
-            pair.move(0, 5 * 64);
-            pair.forgePayload(0, Flow.grant(365));
-            pair.move(0, 64);
-            CHECK.due("server()", pair.server(), 2);
-        }
-    }
-
-    private static void serverIsHeldBack() {
-        CHECK.about("3000 bytes on the way from the server");
-        Pair pair = withFile(1);
-        askMany(pair, 18, 3);
-        serveReads(pair, 3);
-        CHECK.due("15 replies and a grant", pair.way(1), 15 * 128 + 48);
-        pair.forgePayload(1, Flow.grant(396));
-        pair.move(1, 128);
-        askMany(pair, 18, 3);
-        pair.move(0, 5 * 64);
-        CHECK.due("20 replies and two grants", pair.way(1), 19 * 128 + 2 * 48);
-        pair.forgePayload(0, Flow.grant(365));
-        pair.move(0, 64);
-        pair.move(0, 3 * 64);
-        CHECK.due("below 3000", pair.way(1), 22 * 128 + 2 * 48);
-        pair.move(0, 64);
-        CHECK.due("the last one before 3000", pair.way(1), 23 * 128 + 2 * 48);
-        CHECK.due("credit(1)", pair.credit(1), 400 - 4 * 73);
-        pair.forgePayload(0, Flow.grant(4 * 73));
-        pair.move(0, 64);
-        pair.move(0, 64);
-        CHECK.due("it waits", pair.way(1), 23 * 128 + 2 * 48);
-        CHECK.due("there is credit", pair.credit(1), 400);
-        pair.forgePayload(1, Flow.grant(396));
-        pair.move(1, 128);
-        CHECK.due("nothing goes by itself", pair.way(1), 22 * 128 + 2 * 48);
-        askMany(pair, 8, 3);
-        pair.move(0, 64);
-        CHECK.due("one goes behind the next packet", pair.way(1), 23 * 128 + 2 * 48);
-        CHECK.due("credit(1)", pair.credit(1), 327);
-        serversGrantIsHeldBack(pair);
-    }
-
-    /** Goes on with 3040 bytes on the way, a reply that waits, and 110 bytes of requests to grant. */
-    private static void serversGrantIsHeldBack(Pair pair) {
-        CHECK.about("3000 bytes on the way when the server would grant");
-        for (int i = 0; i < 4; i++) {
-            pair.move(1, 128);
+    /** A request comes to the server. */
+    private static void serve(Pair pair, int count) {
+        for (int i = 0; i < count; i++) {
+            pair.ask(8, 0, 0, 0, 0);
             pair.move(0, 64);
         }
-        CHECK.due("198 bytes to grant", pair.credit(1), 35);
-        pair.forgePayload(0, Flow.grant(365));
-        pair.move(0, 64);
-        CHECK.due("credit(1)", pair.credit(1), 400);
-        pair.move(1, 128);
-        pair.move(0, 64);
-        CHECK.due("a reply, but no grant", pair.way(1), 23 * 128 + 2 * 48);
-        CHECK.due("credit(1)", pair.credit(1), 327);
-        pair.move(1, 256);
-        pair.move(0, 64);
-        CHECK.due("a reply, the grant, a reply", pair.way(1), 23 * 128 + 3 * 48);
-        CHECK.due("credit(1)", pair.credit(1), 181);
-        int end = pair.way(1) - 128;
-        for (int i = end - 48; i < end; i++) {
-            pair.octet(1, i);
-        }
-        CHECK.due("credit(0)", pair.credit(0), 224);
-        pair.move(1, 128 + 47);
-        CHECK.due("client()", pair.client(), 2);
+    }
+
+    private static void repliesAtThreeThousand() {
+        CHECK.sentence("Terms", "replies wait");
+        Pair pair = crowdedToClient();
+        serve(pair, 1);
+        CHECK.due("way(1), a reply at 2944", pair.way(1), 3008);
+        pair.move(1, 8);
+        int credit = pair.credit(1);
+        serve(pair, 1);
+        CHECK.due("way(1), it waits at 3000", pair.way(1), 3000);
+        CHECK.due("credit(1)", pair.credit(1), credit);
         pair.move(1, 1);
-        CHECK.due("a grant of 220 is too much, with those that were forged", pair.client(), -7);
+        CHECK.due("way(1), nothing goes by itself", pair.way(1), 2999);
+        serve(pair, 1);
+        CHECK.due("way(1), one goes at 2999, the next one waits", pair.way(1), 3063);
+        CHECK.due("credit(1)", pair.credit(1), credit - 9);
+        pair.move(1, 2 * 64);
+        serve(pair, 1);
+        CHECK.due("way(1), one goes at 2935 and one at 2999", pair.way(1), 3063);
+        CHECK.due("credit(1)", pair.credit(1), credit - 3 * 9);
+    }
+
+    private static void serversGrantAtThreeThousand() {
+        CHECK.sentence("Terms", "and a grant comes behind a later reply, with all there is to grant by then");
+        Pair below = crowdedToClient();
+        below.move(1, 4 * 64 + 9);
+        serve(below, 5);
+        CHECK.due("way(1), 220 bytes to grant at 2999", below.way(1), 2999 + 48);
+        CHECK.due("how much", Flow.word(below.model.lastSent[1], 1), 220);
+        Pair pair = crowdedToClient();
+        pair.move(1, 4 * 64 + 8);
+        serve(pair, 5);
+        CHECK.due("way(1), 220 bytes to grant at 3000", pair.way(1), 3000);
+        pair.move(1, 65);
+        CHECK.due("way(1), nothing goes by itself", pair.way(1), 3000 - 65);
+        serve(pair, 1);
+        CHECK.due("way(1), a reply and the grant", pair.way(1), 3000 - 1 + 48);
+        CHECK.due("how much", Flow.word(pair.model.lastSent[1], 1), 242);
+        pair.lookAtAll(1, 2999);
+    }
+
+    private static void neverWithoutAlterations() {
+        CHECK.sentence("Terms", "(Without alterations it never comes to that.)");
+        Pair pair = Pair.opened(CHECK, 1);
+        while (pair.credit(0) >= 22) {
+            pair.ask(8, 0, 0, 0, 0);
+        }
+        CHECK.due("way(0), all credit in the smallest requests", pair.way(0), 18 * 64);
+        pair.move(0, Pair.ALL);
+        CHECK.due("way(1), all their replies and a grant", pair.way(1), 18 * 64 + 48);
     }
 }

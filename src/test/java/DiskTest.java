@@ -1,299 +1,317 @@
-/** Promises 15 to 17 (cut, start, changes) and THE DISK. */
+/** THE DISK: what is written down, copies, and losses of power. */
 final class DiskTest {
     private static final Check CHECK = new Check("DiskTest");
+    private static final int[] CHANGE = {5, 1, 0, 0, 0};
 
     public static void main(String[] args) {
-        cutRefuses();
-        cutAtTheNextBlock();
-        cutLater();
-        cutAnew();
-        whatCountsAsAChange();
-        startAgain();
-        behindTheLoss();
-        repliesVanish();
-        copies();
+        whatIsWrittenDown();
+        whatIsNotWrittenDown();
+        oneBlock();
+        copyBehindSixtyFour();
+        copyBehindSixtyFourMore();
+        copySinceTheBeginning();
+        blocksOfACopy();
+        powerGoesAtABlock();
         lossInACopy();
-        lossDoesNotPutOffACopy();
+        lossBehindACopy();
+        thatRequestIsNotDone();
+        whatCameBehindIsNotDone();
+        whatWasWrittenBeforeIsDone();
+        repliesThatWaitVanish();
+        whatComesVanishes();
         CHECK.end();
     }
 
-    private static void cutRefuses() {
-        CHECK.about("promise 15, refusals");
-        Pair pair = new Pair(CHECK);
-        CHECK.due("n -2", pair.cut(-2, 0), false);
-        CHECK.due("n 1001", pair.cut(1001, 0), false);
-        CHECK.due("tear -1", pair.cut(0, -1), false);
-        CHECK.due("tear 32", pair.cut(0, 32), false);
-        CHECK.due("tear 32 with n -1", pair.cut(-1, 32), false);
-        CHECK.due("extremes", pair.cut(Integer.MIN_VALUE, Integer.MAX_VALUE), false);
-        pair.open(1);
-        CHECK.due("a refused one sets nothing", pair.done(1, 0, 1, 1), 1);
-        CHECK.due("n -1", pair.cut(-1, 0), true);
-        CHECK.due("n 1000, tear 31", pair.cut(1000, 31), true);
-        CHECK.due("n 0", pair.cut(0, 31), true);
-        CHECK.due("a refused one leaves what was set", pair.cut(-1, 32), false);
-        pair.ask(1, 0, 2, 2, 0);
-        pair.move(0, Pair.ALL);
-        CHECK.due("server()", pair.server(), GuardedTree.NO_POWER);
-        CHECK.due("without power", pair.cut(0, 0), false);
-        CHECK.due("without power", pair.cut(-1, 0), false);
+    /** Directory 1 and file 2 (5 bytes) in the root, by three changes. */
+    private static Pair tree() {
+        Pair pair = Pair.opened(CHECK, 1);
+        pair.done(1, 0, 1, 1);
+        pair.done(2, 0, 2, 2);
+        pair.done(4, 2, 0, 5);
+        return pair;
     }
 
-    private static void cutAtTheNextBlock() {
-        CHECK.about("promise 15, n 0 with each tear");
-        for (int tear = 0; tear <= 31; tear++) {
-            Pair pair = new Pair(CHECK);
-            pair.open(1);
-            CHECK.due("cut", pair.cut(0, tear), true);
-            CHECK.due("what changes nothing", pair.done(8, 0, 0, 0), 1);
-            CHECK.due("what is refused", pair.done(1, 0, 0, 0), GuardedTree.WRONG);
-            pair.ask(1, 0, 1, 1, 0);
-            pair.move(0, Pair.ALL);
-            CHECK.due("server()", pair.server(), GuardedTree.NO_POWER);
-            CHECK.due("changes()", pair.changes(), GuardedTree.NO_POWER);
-            CHECK.due("no reply", pair.way(1), 0);
-            CHECK.due("start()", pair.start(), 0);
+    private static final int[][] CHANGES = {
+        {1, 0, 9, 9, 0}, {2, 0, 9, 9, 0}, {4, 2, 0, 1, 0}, {4, 2, 5, 64, 0}, {5, 2, 0, 0, 0}, {5, 2, 5, 0, 0},
+        {6, 1, 0, 0, 0}, {6, 2, 0, 0, 0}, {7, 1, 0, 9, 9}, {7, 2, 1, 2, 2}};
+
+    private static void whatIsWrittenDown() {
+        CHECK.sentence("Terms",
+            "A request that changes the tree (kinds 1, 2, 4 to 7 that are not refused) is written down");
+        for (int[] r : CHANGES) {
+            Pair pair = tree();
+            pair.cut(0, 0);
+            pair.ask(r[0], r[1], r[2], r[3], r[4]);
+            pair.move(0, pair.way(0) - 1);
+            CHECK.due("server(), a byte lacks", pair.server(), 2);
+            pair.move(0, 1);
+            CHECK.due("server(), kind " + r[0], pair.server(), GuardedTree.NO_POWER);
+            CHECK.due("start()", pair.start(), 3);
             pair.open(2);
-            CHECK.due("it was not done", pair.done(0, 0, 1, 1), GuardedTree.NO_NODE);
+            CHECK.due("done when there is power, kind " + r[0], pair.done(r[0], r[1], r[2], r[3], r[4]) >= 0, true);
+            CHECK.due("changes()", pair.changes(), 4);
         }
     }
 
-    private static void cutLater() {
-        CHECK.about("promise 15, n 1 to 3");
-        for (int n = 1; n <= 3; n++) {
-            Pair pair = new Pair(CHECK);
-            pair.open(1);
-            pair.cut(n, 5);
-            for (int i = 1; i <= 4; i++) {
-                pair.ask(1, 0, i, i, 0);
-            }
-            pair.move(0, Pair.ALL);
-            CHECK.due("server()", pair.server(), GuardedTree.NO_POWER);
-            CHECK.due("replies of those before", pair.way(1), n * 64);
-            CHECK.due("start()", pair.start(), n);
-            CHECK.due("changes()", pair.changes(), n);
-            pair.move(1, Pair.ALL);
-            for (int i = 1; i <= 4; i++) {
-                CHECK.due("status " + i, pair.status(i), i <= n ? i : GuardedTree.PENDING);
-            }
-            pair.open(2);
-            for (int i = 1; i <= 4; i++) {
-                CHECK.due("directory " + i, pair.done(0, 0, i, i), i <= n ? i : GuardedTree.NO_NODE);
-            }
-        }
-    }
+    private static final int[][] NO_CHANGES = {
+        {0, 0, 1, 1, 0}, {3, 2, 0, 5, 0}, {8, 0, 0, 0, 0}, {9, 0, 0, 0, 0}, {1, 0, 0, 0, 0}, {2, 0, 1, 1, 0},
+        {4, 1, 0, 1, 0}, {4, 2, 0, 0, 0}, {5, 2, 6, 0, 0}, {6, 0, 0, 0, 0}, {7, 1, 1, 9, 9}, {7, 2, 0, 2, 2}};
 
-    private static void cutAnew() {
-        CHECK.about("promise 15, what was set before does not count");
-        Pair pair = new Pair(CHECK);
-        pair.open(1);
+    private static void whatIsNotWrittenDown() {
+        CHECK.sentence("Terms", "that are not refused");
+        Pair pair = tree();
         pair.cut(0, 0);
-        pair.cut(1, 0);
-        CHECK.due("done", pair.done(1, 0, 1, 1), 1);
-        pair.cut(1, 0);
-        CHECK.due("done", pair.done(1, 0, 2, 1), 2);
-        pair.cut(-1, 0);
-        CHECK.due("done", pair.done(1, 0, 3, 1), 3);
-        CHECK.due("done", pair.done(1, 0, 4, 1), 4);
-        pair.cut(0, 0);
-        pair.open(5);
-        pair.ask(1, 0, 5, 1, 0);
-        pair.move(0, Pair.ALL);
-        CHECK.due("a new connection leaves it", pair.server(), GuardedTree.NO_POWER);
-        pair.start();
-        pair.open(6);
-        CHECK.due("power stays", pair.done(1, 0, 5, 1), 5);
-        CHECK.due("power stays", pair.done(1, 0, 6, 1), 6);
-    }
-
-    private static void whatCountsAsAChange() {
-        CHECK.about("promise 17");
-        Pair pair = new Pair(CHECK);
-        CHECK.due("at first", pair.changes(), 0);
-        pair.open(1);
-        int[][] requests = {
-            {1, 0, 1, 1, 0, 1}, {2, 0, 2, 2, 0, 1}, {0, 0, 1, 1, 0, 0}, {3, 2, 0, 1, 0, 0}, {4, 2, 0, 5, 0, 1},
-            {5, 2, 5, 0, 0, 1}, {5, 2, 0, 0, 0, 1}, {7, 2, 1, 2, 2, 1}, {8, 1, 0, 0, 0, 0}, {9, 0, 0, 0, 0, 0},
-            {6, 1, 0, 0, 0, 0}, {6, 2, 0, 0, 0, 1}, {6, 1, 0, 0, 0, 1}, {1, 0, 0, 0, 0, 0}, {4, 2, 0, 5, 0, 0}};
-        int want = 0;
-        for (int[] r : requests) {
+        for (int[] r : NO_CHANGES) {
             pair.done(r[0], r[1], r[2], r[3], r[4]);
-            pair.move(0, Pair.ALL);
-            want += r[5];
-            CHECK.due("behind kind " + r[0], pair.changes(), want);
+            CHECK.due("server(), kind " + r[0], pair.server(), 2);
+            CHECK.due("changes(), kind " + r[0], pair.changes(), 3);
         }
-        pair.close();
-        CHECK.due("without a connection", pair.changes(), want);
+        pair.losePower();
+        CHECK.due("start()", pair.start(), 3);
     }
 
-    private static void startAgain() {
-        CHECK.about("promise 16");
-        Pair pair = new Pair(CHECK);
-        CHECK.due("with power", pair.start(), GuardedTree.NONE);
-        pair.open(1);
+    private static void oneBlock() {
+        CHECK.sentence("Terms", "is written down before it is done: one block");
+        for (int n = 0; n <= 3; n++) {
+            Pair pair = tree();
+            pair.cut(n, 3);
+            for (int i = 0; i < 4; i++) {
+                pair.ask(4, 2, 0, 1, 0);
+            }
+            pair.move(0, Pair.ALL);
+            CHECK.due("server()", pair.server(), GuardedTree.NO_POWER);
+            CHECK.due("way(1), cut(" + n + ", 3)", pair.way(1), n * 64);
+            CHECK.due("start(), cut(" + n + ", 3)", pair.start(), 3 + n);
+        }
+    }
+
+    private static int change(Pair pair) {
+        return pair.done(CHANGE[0], CHANGE[1], CHANGE[2], CHANGE[3], CHANGE[4]);
+    }
+
+    /** Changes of a file 1 that is there, until so many are written down. */
+    private static void changeUntil(Pair pair, int count) {
+        while (pair.model.changes() >= 0 && pair.model.changes() < count) {
+            pair.askMany(Math.min(9, count - pair.model.changes()), CHANGE[0]);
+            pair.moveAll();
+        }
+        CHECK.due("changes()", pair.changes(), count);
+    }
+
+    private static Pair withChanges(int count) {
+        Pair pair = Pair.opened(CHECK, 1);
         pair.done(2, 0, 1, 1);
-        pair.put(0x41424344);
-        pair.done(4, 1, 0, 4);
-        CHECK.due("with power", pair.start(), GuardedTree.NONE);
-        CHECK.due("the connection stays", pair.server(), 2);
-        pair.cut(0, 9);
-        pair.ask(8, 1, 1, 0, 0);
-        pair.ask(6, 1, 0, 0, 0);
-        pair.move(0, Pair.ALL);
-        pair.ask(8, 1, 1, 0, 0);
-        CHECK.due("start()", pair.start(), 2);
-        CHECK.due("start()", pair.start(), GuardedTree.NONE);
-        CHECK.due("changes()", pair.changes(), 2);
-        CHECK.due("server()", pair.server(), 0);
-        CHECK.due("client()", pair.client(), 2);
-        CHECK.due("way(0)", pair.way(0), 64);
-        CHECK.due("way(1)", pair.way(1), 64);
-        pair.move(1, Pair.ALL);
-        CHECK.due("the reply that was on the way", pair.status(3), 4);
-        CHECK.due("the one that was not done", pair.status(4), GuardedTree.PENDING);
-        CHECK.due("the client still asks", pair.ask(8, 0, 0, 0, 0), 6);
-        CHECK.due("it vanishes", pair.move(0, Pair.ALL), 128);
-        CHECK.due("way(1)", pair.way(1), 0);
-        pair.open(1);
-        CHECK.due("lost by the new connection", pair.status(4), GuardedTree.LOST);
-        CHECK.due("the file is there", pair.done(3, 1, 0, 64), 4);
-        CHECK.due("its first byte", pair.data(7, 0), 0x41);
-        CHECK.due("changes()", pair.changes(), 2);
+        changeUntil(pair, count);
+        return pair;
     }
 
-    private static void behindTheLoss() {
-        CHECK.about("what came behind it is not done");
-        Pair pair = new Pair(CHECK);
-        pair.open(1);
+    /** How many changes are done before power goes at a block that is counted from now on. */
+    private static void doneBefore(Pair pair, int n, int want) {
+        int before = pair.changes();
+        pair.cut(n, 7);
+        for (int i = 0; i < 4 && pair.server() != GuardedTree.NO_POWER; i++) {
+            pair.askMany(1, CHANGE[0]);
+            pair.moveAll();
+        }
+        CHECK.due("server(), " + before + " changes, cut(" + n + ", 7)", pair.server(), GuardedTree.NO_POWER);
+        CHECK.due("start(), " + before + " changes, cut(" + n + ", 7)", pair.start(), before + want);
+    }
+
+    private static void copyBehindSixtyFour() {
+        CHECK.sentence("Terms",
+            "When 64 were written down since the last COPY that was made wholly (or since the beginning");
+        int[][] cases = {{62, 0, 0}, {62, 1, 1}, {62, 2, 2}, {62, 130, 2}, {62, 131, 2}, {62, 132, 3},
+            {63, 0, 0}, {63, 1, 1}, {63, 129, 1}, {63, 130, 1}, {63, 131, 2},
+            {64, 0, 0}, {64, 1, 0}, {64, 129, 0}, {64, 130, 1}, {64, 131, 2},
+            {65, 0, 0}, {65, 1, 1}, {65, 2, 2}};
+        for (int[] one : cases) {
+            doneBefore(withChanges(one[0]), one[1], one[2]);
+        }
+    }
+
+    private static void copyBehindSixtyFourMore() {
+        CHECK.sentence("Terms", "since the last COPY that was made wholly");
+        int[][] cases = {{127, 0, 0}, {127, 1, 1}, {127, 2, 1}, {127, 130, 1}, {127, 131, 2},
+            {128, 0, 0}, {128, 129, 0}, {128, 130, 1}, {129, 1, 1}, {129, 2, 2},
+            {191, 1, 1}, {191, 130, 1}, {191, 131, 2}, {192, 129, 0}, {192, 130, 1}};
+        for (int[] one : cases) {
+            doneBefore(withChanges(one[0]), one[1], one[2]);
+        }
+    }
+
+    private static void copySinceTheBeginning() {
+        CHECK.sentence("Terms", "a loss of power does not change that");
+        for (int lossAt : new int[] {1, 40, 63, 64}) {
+            Pair pair = withChanges(lossAt);
+            doneBefore(pair, 0, 0);
+            pair.open(2);
+            changeUntil(pair, 64);
+            doneBefore(pair, 129, 0);
+        }
+        Pair pair = withChanges(40);
+        for (int seed = 2; seed <= 5; seed++) {
+            doneBefore(pair, 0, 0);
+            pair.open(seed);
+        }
+        changeUntil(pair, 63);
+        doneBefore(pair, 1, 1);
+    }
+
+    private static void blocksOfACopy() {
+        CHECK.sentence("Terms", "a copy is made before the next one: 129 blocks");
+        for (int n : new int[] {0, 1, 2, 64, 127, 128, 129}) {
+            doneBefore(withChanges(64), n, 0);
+        }
+        for (int n : new int[] {130, 131, 132}) {
+            doneBefore(withChanges(64), n, n - 129);
+        }
+    }
+
+    private static void powerGoesAtABlock() {
+        CHECK.sentence("Terms", "POWER may be set to go at a block: then the server has none");
+        Pair pair = tree();
+        pair.cut(0, 0);
+        CHECK.due("server(), power is set to go", pair.server(), 2);
+        CHECK.due("changes()", pair.changes(), 3);
+        pair.ask(1, 0, 9, 9, 0);
+        CHECK.due("server(), the change is on the way", pair.server(), 2);
+        pair.move(0, Pair.ALL);
+        CHECK.due("server(), the change came", pair.server(), GuardedTree.NO_POWER);
+        CHECK.due("changes()", pair.changes(), GuardedTree.NO_POWER);
+        CHECK.due("credit(1)", pair.credit(1), 0);
+        CHECK.due("client()", pair.client(), 2);
+    }
+
+    private static void lossInACopy() {
+        CHECK.sentence("Terms",
+            "also when it goes at a block of a copy made for it: the copy is made anew before the next change");
+        for (int n : new int[] {0, 1, 64, 127, 128}) {
+            Pair pair = withChanges(64);
+            doneBefore(pair, n, 0);
+            pair.open(2);
+            doneBefore(pair, 128, 0);
+            pair.open(3);
+            doneBefore(pair, 129, 0);
+            pair.open(4);
+            CHECK.due("the copy was whole", change(pair), 0);
+            doneBefore(pair, 1, 1);
+        }
+        Pair pair = withChanges(64);
+        doneBefore(pair, 128, 0);
+        pair.open(2);
+        doneBefore(pair, 131, 2);
+    }
+
+    private static void lossBehindACopy() {
+        CHECK.sentence("Terms", "the last COPY that was made wholly");
+        Pair pair = withChanges(64);
+        doneBefore(pair, 129, 0);
+        pair.open(2);
+        doneBefore(pair, 1, 1);
+        pair.open(3);
+        changeUntil(pair, 128);
+        doneBefore(pair, 129, 0);
+        pair.open(4);
+        doneBefore(pair, 3, 3);
+    }
+
+    private static void thatRequestIsNotDone() {
+        CHECK.sentence("Terms", "is not done, and not answered");
+        for (int[] r : CHANGES) {
+            Pair pair = tree();
+            pair.cut(0, 31);
+            int id = pair.ask(r[0], r[1], r[2], r[3], r[4]);
+            pair.move(0, Pair.ALL);
+            CHECK.due("way(1)", pair.way(1), 0);
+            CHECK.due("status", pair.status(id), GuardedTree.PENDING);
+            pair.start();
+            CHECK.due("way(1)", pair.way(1), 0);
+            pair.open(2);
+            CHECK.due("status", pair.status(id), GuardedTree.LOST);
+            CHECK.due("directory 1", pair.done(0, 0, 1, 1), 1);
+            CHECK.due("file 2", pair.done(0, 0, 2, 2), 2);
+            CHECK.due("its size", pair.done(8, 2, 1, 0), 5);
+            CHECK.due("no node more", pair.done(9, 0, 2, 0), GuardedTree.NO_NODE);
+            CHECK.due("nor one in directory 1", pair.done(9, 1, 0, 0), GuardedTree.NO_NODE);
+        }
+    }
+
+    private static void whatCameBehindIsNotDone() {
+        CHECK.sentence("Terms", "and what came behind it, is not done, and not answered");
+        Pair pair = Pair.opened(CHECK, 1);
         pair.cut(0, 0);
         pair.ask(1, 0, 1, 1, 0);
         pair.ask(8, 0, 0, 0, 0);
         pair.ask(1, 0, 2, 2, 0);
         pair.move(0, 70);
+        CHECK.due("server()", pair.server(), GuardedTree.NO_POWER);
         pair.start();
         pair.move(0, Pair.ALL);
         CHECK.due("way(1)", pair.way(1), 0);
         CHECK.due("changes()", pair.changes(), 0);
         CHECK.due("server()", pair.server(), 0);
         pair.open(1);
+        for (int id = 1; id <= 3; id++) {
+            CHECK.due("status(" + id + ")", pair.status(id), GuardedTree.LOST);
+        }
         CHECK.due("a new connection works", pair.done(1, 0, 1, 1), 1);
     }
 
-    private static void repliesVanish() {
-        CHECK.about("replies that wait vanish");
-        Pair pair = new Pair(CHECK);
-        pair.open(1);
-        pair.done(2, 0, 1, 1);
-        pair.done(4, 1, 0, 64);
-        pair.open(1);
-        for (int i = 0; i < 6; i++) {
-            pair.ask(3, 1, 0, 64, 0);
-        }
-        pair.ask(5, 1, 0, 0, 0);
+    private static void whatWasWrittenBeforeIsDone() {
+        CHECK.sentence("Terms", "what was written down before is done");
+        Pair pair = tree();
+        pair.put(0x41424344);
+        pair.ask(4, 2, 5, 4, 0);
+        pair.ask(7, 2, 1, 7, 7);
+        pair.ask(1, 0, 9, 9, 0);
+        pair.cut(2, 16);
+        pair.move(0, Pair.ALL);
+        CHECK.due("server()", pair.server(), GuardedTree.NO_POWER);
+        CHECK.due("start()", pair.start(), 5);
+        pair.move(1, Pair.ALL);
+        CHECK.due("status(4)", pair.status(4), 4);
+        CHECK.due("status(5)", pair.status(5), 2);
+        CHECK.due("status(6)", pair.status(6), GuardedTree.PENDING);
+        pair.open(2);
+        CHECK.due("file 2 in directory 1", pair.done(0, 1, 7, 7), 2);
+        CHECK.due("its bytes", pair.done(3, 2, 0, 64), 9);
+        CHECK.due("the first that was written", pair.data(8, 5), 0x41);
+        CHECK.due("the last", pair.data(8, 8), 0x44);
+        CHECK.due("directory 3 is not there", pair.done(0, 0, 9, 9), GuardedTree.NO_NODE);
+    }
+
+    private static void repliesThatWaitVanish() {
+        CHECK.sentence("Terms", "replies that wait vanish");
+        Pair pair = Pair.withFile(CHECK);
+        pair.askMany(6, 3);
+        pair.askMany(1, CHANGE[0]);
         pair.cut(0, 0);
         pair.move(0, Pair.ALL);
         CHECK.due("server()", pair.server(), GuardedTree.NO_POWER);
         CHECK.due("way(1)", pair.way(1), 5 * 128);
         pair.move(1, Pair.ALL);
         pair.start();
-        CHECK.due("the grant vanishes", pair.move(0, Pair.ALL), 48);
-        CHECK.due("nothing comes", pair.way(1), 0);
+        CHECK.due("the client's grant vanishes", pair.move(0, Pair.ALL), 48);
+        CHECK.due("way(1)", pair.way(1), 0);
         pair.open(1);
         CHECK.due("a new connection", pair.done(8, 0, 0, 0), 1);
         CHECK.due("the file was not cut", pair.done(8, 1, 1, 0), 64);
     }
 
-    /** Changes of a file 1 that is there, until so many are written down; all they do is to cut it to 0 bytes. */
-    private static void changeUntil(Pair pair, int count) {
-        while (pair.model.changes() >= 0 && pair.model.changes() < count) {
-            int asked = 0;
-            while (asked < count - pair.model.changes() && asked < 9 && pair.model.credit(0) >= 22) {
-                pair.ask(5, 1, 0, 0, 0);
-                asked++;
-            }
-            pair.moveAll();
-        }
-    }
-
-    private static Pair withChanges(int count) {
-        Pair pair = new Pair(CHECK);
+    private static void whatComesVanishes() {
+        CHECK.sentence("Terms", "What came to the server vanishes until there is power and a new connection.");
+        Pair pair = Pair.opened(CHECK, 1);
+        pair.losePower();
+        pair.ask(1, 0, 1, 1, 0);
+        CHECK.due("without power", pair.move(0, 20), 20);
+        pair.start();
+        CHECK.due("without a connection", pair.move(0, 44), 44);
+        pair.ask(1, 0, 2, 2, 0);
+        CHECK.due("without a connection", pair.move(0, Pair.ALL), 64);
+        CHECK.due("way(1)", pair.way(1), 0);
+        CHECK.due("server()", pair.server(), 0);
+        CHECK.due("changes()", pair.changes(), 0);
         pair.open(1);
-        pair.done(2, 0, 1, 1);
-        changeUntil(pair, count);
-        CHECK.due("changes()", pair.changes(), count);
-        return pair;
-    }
-
-    private static void copies() {
-        CHECK.about("a copy before the 65th change");
-        int[][] cases = {{62, 0, 62}, {62, 1, 63}, {62, 2, 64}, {63, 0, 63}, {63, 1, 64}, {63, 130, 64},
-            {63, 131, 65}, {64, 0, 64}, {64, 1, 64}, {64, 128, 64}, {64, 129, 64}, {64, 130, 65}, {64, 131, 66},
-            {65, 0, 65}, {65, 1, 66}, {127, 1, 128}, {127, 2, 128}, {127, 130, 128}, {127, 131, 129}, {128, 129, 128},
-            {128, 130, 129}};
-        for (int[] one : cases) {
-            Pair pair = withChanges(one[0]);
-            pair.cut(one[1], 7);
-            for (int i = 0; i < 3; i++) {
-                pair.ask(5, 1, 0, 0, 0);
-                pair.move(0, Pair.ALL);
-                pair.move(1, Pair.ALL);
-            }
-            String call = one[0] + " changes, cut(" + one[1] + ", 7)";
-            CHECK.due(call + ", server()", pair.server(), GuardedTree.NO_POWER);
-            CHECK.due(call + ", start()", pair.start(), one[2]);
-        }
-    }
-
-    private static void lossInACopy() {
-        CHECK.about("power goes in a copy: it is made anew");
-        for (int n : new int[] {0, 1, 64, 127, 128}) {
-            Pair pair = withChanges(64);
-            pair.cut(n, 31);
-            pair.ask(5, 1, 0, 0, 0);
-            pair.move(0, Pair.ALL);
-            CHECK.due("server()", pair.server(), GuardedTree.NO_POWER);
-            CHECK.due("start()", pair.start(), 64);
-            pair.open(2);
-            pair.cut(128, 0);
-            pair.ask(5, 1, 0, 0, 0);
-            pair.move(0, Pair.ALL);
-            CHECK.due("in the copy's last block", pair.start(), 64);
-            pair.open(3);
-            pair.cut(130, 0);
-            CHECK.due("behind copy and change", pair.done(5, 1, 0, 0), 0);
-            CHECK.due("changes()", pair.changes(), 65);
-            pair.ask(5, 1, 0, 0, 0);
-            pair.move(0, Pair.ALL);
-            CHECK.due("at the next change", pair.start(), 65);
-        }
-    }
-
-    private static void lossDoesNotPutOffACopy() {
-        CHECK.about("power goes at the change behind a whole copy, and before a copy is due");
-        Pair pair = withChanges(64);
-        pair.cut(129, 0);
-        pair.ask(5, 1, 0, 0, 0);
-        pair.move(0, Pair.ALL);
-        CHECK.due("start()", pair.start(), 64);
-        pair.open(2);
-        pair.cut(1, 0);
-        CHECK.due("no copy again", pair.done(5, 1, 0, 0), 0);
-        CHECK.due("server()", pair.server(), 2);
-        pair.ask(5, 1, 0, 0, 0);
-        pair.move(0, Pair.ALL);
-        CHECK.due("start()", pair.start(), 65);
-
-        pair = withChanges(40);
-        pair.cut(0, 0);
-        pair.ask(5, 1, 0, 0, 0);
-        pair.move(0, Pair.ALL);
-        CHECK.due("start()", pair.start(), 40);
-        pair.open(2);
-        changeUntil(pair, 64);
-        pair.cut(1, 0);
-        pair.ask(5, 1, 0, 0, 0);
-        pair.move(0, Pair.ALL);
-        CHECK.due("64 since the beginning", pair.server(), GuardedTree.NO_POWER);
-        CHECK.due("start()", pair.start(), 64);
+        CHECK.due("a new connection", pair.done(1, 0, 3, 3), 1);
     }
 }

@@ -45,6 +45,8 @@ final class Model {
     private BigInteger sentX;
     byte[][] ways = {new byte[0], new byte[0]};
     private byte[][] inbox = {new byte[0], new byte[0]};
+    /** The payload that was sent last in each direction. */
+    final byte[][] lastSent = new byte[2][];
     private Flow clientOut;
     private Flow clientIn;
     private Flow serverOut;
@@ -214,6 +216,10 @@ final class Model {
         return dir == 0 ? serverIn : clientIn;
     }
 
+    int asked() {
+        return asked.size();
+    }
+
     int partlyCame(int dir) {
         return inbox[dir].length;
     }
@@ -224,6 +230,7 @@ final class Model {
 
     private void sendPacket(int dir, Flow flow, byte[] payload) {
         byte[] plain = Flow.plain(payload);
+        lastSent[dir] = payload;
         send(dir, flow.packet(plain));
         flow.goOn(plain.length);
     }

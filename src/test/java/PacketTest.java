@@ -1,405 +1,466 @@
 import java.util.Arrays;
 
-/** PACKETS, PAYLOADS, and the faults 4 to 7 of both sides (with promises 4 and 5). */
+/** Blocks, digests and seals, PACKETS, and the faults 4 to 6 of both sides. */
 final class PacketTest {
     private static final Check CHECK = new Check("PacketTest");
     /** A seed with which the lowest word of the counter of what goes to the server begins at -25. */
     private static final int WRAPPING_SEED = 35055454;
+    private static final byte[] TELL_ROOT = Flow.request(1, 8, 0, 0, 0, 0);
 
     public static void main(String[] args) {
-        everyRequest();
-        everySize();
-        packetsAreNumbered();
+        zeroUnderS();
+        blocksWrapAround();
+        digestsWrapAround();
+        digestsOfEachSize();
+        bytesOfEachKind();
+        numbersOfPackets();
+        numbersAboveAByte();
+        leastPaddingOfRequests();
+        leastPaddingOfReplies();
+        bytesOfPadding();
         counterCarries();
-        everyByteIsSealed();
-        lengths();
         lengthIsKnownWithSixteenBytes();
-        paddings();
-        requestsThatAreRight();
-        requestsThatAreNot();
-        requestsBeyondTheCredit();
-        repliesThatAreRight();
-        repliesThatAreNot();
-        grants();
-        longPackets();
+        lengthsOfPackets();
+        lengthsWithTheirSign();
+        longestPacket();
+        sealIsKnownWithTheLastByte();
+        everyByteIsSealed();
+        paddingBelowFour();
+        paddingAboveTheLength();
+        firstFaultCounts();
+        overWithAFault();
+        overLosesRepliesThatWait();
+        overUntilAnotherConnection();
         CHECK.end();
     }
 
     private static Pair opened() {
-        Pair pair = new Pair(CHECK);
-        pair.open(21);
-        return pair;
+        return Pair.opened(CHECK, 21);
     }
 
-    private static void lookAtAll(Pair pair, int dir) {
-        int count = pair.way(dir);
-        for (int i = 0; i < count; i++) {
-            pair.octet(dir, i);
+    /** Packets in both directions, each byte of them. */
+    private static void lookAtPackets(int seed) {
+        Pair pair = Pair.opened(CHECK, seed);
+        for (int i = 0; i < 3; i++) {
+            pair.ask(8, i, i, i, i);
+        }
+        pair.lookAtAll(0, 0);
+        pair.move(0, Pair.ALL);
+        pair.lookAtAll(1, 0);
+    }
+
+    private static void zeroUnderS() {
+        CHECK.sentence("Terms", "let c be that byte whose product with b is 1 (0 for 0)");
+        for (int seed = 100; seed < 110; seed++) {
+            lookAtPackets(seed);
         }
     }
 
-    private static void everyRequest() {
-        CHECK.about("bytes of requests of each kind");
+    private static void blocksWrapAround() {
+        String[] sentences = {
+            "products as polynomials over bits modulo x^8 + x^4 + x^3 + x + 1",
+            "of the bits i, i + 4, i + 5, i + 6, i + 7 (modulo 8) of c",
+            "where 4 divides i: w(i - 1) turned left by 8 bits",
+            "(each twice the one before, in the field)",
+            "byte 4 c + r becomes what byte 4 ((c + r) modulo 4) + r was",
+            "but for k = 10 not",
+            "(numbers of a modulo 4, in the field)"};
+        for (int i = 0; i < sentences.length; i++) {
+            CHECK.sentence("Terms", sentences[i]);
+            lookAtPackets(i);
+        }
+    }
+
+    private static void digestsWrapAround() {
+        String[] sentences = {
+            "numbers of 32 bits (sums wrap): ror(x, n) is x turned right by n bits",
+            "shr(x, n) shifted right (zeros come in)",
+            "and the length in bits as 64 bits (highest byte first)",
+            "the key is brought to 64 bytes by zeros"};
+        for (int i = 0; i < sentences.length; i++) {
+            CHECK.sentence("Terms", sentences[i]);
+            lookAtPackets(-1 - i);
+        }
+    }
+
+    private static void digestsOfEachSize() {
+        CHECK.sentence("Terms", "as many bits 0 as bring the length to 448 modulo 512");
+        for (int c : new int[] {1, 2, 18, 34, 50}) {
+            Pair pair = opened();
+            pair.ask(4, 1, 0, c, 0);
+            pair.lookAtAll(0, 0);
+        }
+        for (int whole = 32; whole <= 128; whole += 16) {
+            Pair pair = opened();
+            pair.askMany(4, 8);
+            pair.forge(0, Flow.plain(TELL_ROOT, whole - 5 - 22));
+            pair.move(0, whole + 32);
+            CHECK.due("server(), a packet of " + whole, pair.server(), 2);
+        }
+    }
+
+    private static void bytesOfEachKind() {
+        CHECK.sentence("Terms", "a REQUEST: a byte 0, its number, a byte with its kind, a, b, c, d");
         for (int kind = 0; kind <= 9; kind++) {
             Pair pair = opened();
             pair.put(0x01020304);
             pair.ask(kind, 0x11223344, -2, kind == 4 ? 7 : 0x55667788, Integer.MIN_VALUE);
-            lookAtAll(pair, 0);
+            pair.lookAtAll(0, 0);
             pair.move(0, Pair.ALL);
-            lookAtAll(pair, 1);
+            pair.lookAtAll(1, 0);
         }
     }
 
-    private static void everySize() {
-        CHECK.about("sizes of packets");
-        Pair pair = opened();
-        pair.done(2, 0, 1, 1);
-        for (int c = 1; c <= 64; c++) {
-            pair.move(0, Pair.ALL);
-            pair.ask(4, 1, 0, c, 0);
-            CHECK.due("WRITE of " + c, pair.move(0, Pair.ALL), 32 + (5 + 22 + c + 4 + 15) / 16 * 16);
-            pair.move(1, Pair.ALL);
+    private static void numbersOfPackets() {
+        CHECK.sentence("Terms", "PACKETS of a direction are numbered 0, 1, ..");
+        for (int more : new int[] {0, 1, -1, 256, 65536, 1 << 24, Integer.MIN_VALUE}) {
+            for (int dir = 0; dir <= 1; dir++) {
+                Pair pair = sent(dir);
+                pair.lookAtAll(dir, 64);
+                pair.move(dir, 64);
+                Flow flow = pair.model.opener(dir);
+                byte[] plain = flow.mask(Arrays.copyOf(pair.model.ways[dir], 32));
+                flow.number += more;
+                byte[] packet = flow.packet(plain);
+                flow.number -= more;
+                pair.overwrite(dir, packet);
+                pair.move(dir, 64);
+                CHECK.due("packet 1 with the number " + (1 + more), side(pair, dir), more == 0 ? 2 : -5);
+            }
         }
-        pair = opened();
-        pair.done(2, 0, 1, 1);
-        pair.done(4, 1, 0, 64);
-        for (int c = 1; c <= 64; c++) {
-            pair.ask(3, 1, 0, c, 0);
+    }
+
+    private static void numbersAboveAByte() {
+        CHECK.sentence("Terms", "the seal (not enciphered) of the packet's number (four bytes, highest first)");
+        for (int dir = 0; dir <= 1; dir++) {
+            Pair pair = opened();
+            while (pair.model.opener(dir).number < 245) {
+                pair.askMany(10, 8);
+                pair.move(0, Pair.ALL);
+                pair.move(1, Pair.ALL);
+            }
+            while (pair.model.opener(dir).number < 258) {
+                pair.ask(8, 0, 0, 0, 0);
+                pair.move(0, dir * Pair.ALL);
+                pair.octet(dir, 63);
+                pair.octet(dir, pair.way(dir) - 1);
+                pair.move(0, Pair.ALL);
+                pair.move(1, Pair.ALL);
+            }
+            CHECK.due("server()", pair.server(), 2);
+            CHECK.due("client()", pair.client(), 2);
+        }
+    }
+
+    private static void leastPaddingOfRequests() {
+        CHECK.sentence("Terms",
+            "the least number, 4 at least, with which the whole (with the length) is of a multiple of 16");
+        int[][] sizes = {
+            {0, 32}, {1, 32}, {2, 48}, {17, 48}, {18, 64}, {33, 64}, {34, 80}, {49, 80}, {50, 96}, {64, 96}};
+        for (int[] size : sizes) {
+            Pair pair = opened();
+            pair.ask(4, 1, 0, size[0], 0);
+            CHECK.due("way(0), WRITE of " + size[0], pair.way(0), size[1] + 32);
+            pair.lookAtAll(0, 0);
+        }
+    }
+
+    private static void leastPaddingOfReplies() {
+        CHECK.sentence("Terms", "the least number, 4 at least");
+        Pair file = Pair.withFile(CHECK);
+        file.askMany(9, 8);
+        file.ask(4, 9, 0, 2, 0);
+        file.move(0, Pair.ALL);
+        CHECK.due("way(1), ten replies and a grant", file.way(1), 10 * 64 + 48);
+        int[][] sizes = {
+            {1, 32}, {14, 32}, {15, 48}, {30, 48}, {31, 64}, {46, 64}, {47, 80}, {62, 80}, {63, 96}, {64, 96}};
+        for (int[] size : sizes) {
+            Pair pair = Pair.withFile(CHECK);
+            pair.ask(3, 1, 0, size[0], 0);
             pair.move(0, 64);
-            int grant = pair.way(1) % 16;
-            CHECK.due("whole blocks", grant, 0);
-            pair.move(1, Pair.ALL);
-            pair.move(0, Pair.ALL);
+            CHECK.due("way(1), READ of " + size[0], pair.way(1), size[1] + 32);
+            pair.lookAtAll(1, 0);
         }
     }
 
-    private static void packetsAreNumbered() {
-        CHECK.about("the same request once more has other bytes");
-        Pair pair = opened();
-        pair.ask(8, 0, 0, 0, 0);
-        pair.ask(8, 0, 0, 0, 0);
-        lookAtAll(pair, 0);
-        pair.move(0, Pair.ALL);
-        lookAtAll(pair, 1);
+    private static void bytesOfPadding() {
+        CHECK.sentence("Terms", "the padding, bytes 0, 37, 74, .. (lowest bytes)");
+        for (int c = 1; c <= 2; c++) {
+            Pair pair = opened();
+            pair.ask(4, 1, 0, c, 0);
+            int whole = pair.way(0) - 32;
+            byte[] row = new byte[whole];
+            for (int i = 0; i < whole; i++) {
+                row[i] = (byte) pair.octet(0, i);
+            }
+            byte[] plain = pair.model.opener(0).mask(row);
+            int padding = c == 1 ? 4 : 19;
+            CHECK.due("how long it is", plain[4], padding);
+            for (int i = 0; i < padding; i++) {
+                CHECK.due("byte " + i, plain[whole - padding + i] & 255, 37 * i % 256);
+            }
+        }
     }
 
     private static void counterCarries() {
-        CHECK.about("the counter is one number of 128 bits");
-        Pair pair = new Pair(CHECK);
-        pair.open(WRAPPING_SEED);
-        for (int i = 0; i < 11; i++) {
-            pair.ask(8, 0, 0, 0, 0);
-        }
+        CHECK.sentence("Terms",
+            "the counter (one number of 128 bits, highest word first) goes up by one for each sixteen bytes");
+        Pair pair = Pair.opened(CHECK, WRAPPING_SEED);
+        pair.askMany(11, 8);
         pair.move(0, Pair.ALL);
         pair.move(1, Pair.ALL);
         pair.ask(4, 0, 0, 64, 0);
-        lookAtAll(pair, 0);
+        pair.lookAtAll(0, 0);
         pair.move(0, Pair.ALL);
         CHECK.due("server()", pair.server(), 2);
         CHECK.due("way(1)", pair.way(1), 64);
         pair.ask(4, 0, 0, 64, 0);
-        lookAtAll(pair, 0);
+        pair.lookAtAll(0, 0);
     }
 
-    private static void everyByteIsSealed() {
-        CHECK.about("fault 5, or 4 for a length");
-        for (int i = 0; i < 64; i++) {
-            Pair pair = opened();
-            pair.ask(8, 0, 0, 0, 0);
-            pair.alter(0, i, i == 3 ? 16 : 1);
-            pair.move(0, 64);
-            CHECK.due("server(), byte " + i, pair.server(), i < 3 ? -4 : -5);
-            pair = opened();
-            pair.ask(8, 0, 0, 0, 0);
-            pair.move(0, 64);
-            pair.alter(1, i, i == 3 ? 16 : 128);
-            pair.move(1, 64);
-            CHECK.due("client(), byte " + i, pair.client(), i < 3 ? -4 : -5);
-        }
-    }
-
-    /** The packet of a request, with another length before it is enciphered. */
-    private static void altersLength(int length, int state) {
+    /** A request, or the reply to one, that is next on the way. */
+    private static Pair sent(int dir) {
         Pair pair = opened();
-        for (int i = 0; i < 3; i++) {
-            pair.ask(8, 0, 0, 0, 0);
-        }
-        byte[] mask = Flow.word(28 ^ length);
-        for (int i = 0; i < 4; i++) {
-            pair.alter(0, i, mask[i]);
-        }
-        pair.move(0, 16);
-        CHECK.due("server(), length " + length, pair.server(), state);
-        CHECK.due("move", pair.move(0, 160), 160);
-        pair.server();
-    }
-
-    private static void lengths() {
-        CHECK.about("fault 4");
-        for (int length = 12; length <= 124; length += 16) {
-            altersLength(length, 2);
-        }
-        int[] wrong = {-4, 0, 4, 8, 11, 13, 16, 27, 29, 30, 123, 125, 126, 140, 156, 268, -116, -1, -20,
-            Integer.MIN_VALUE, Integer.MIN_VALUE + 12, Integer.MAX_VALUE, Integer.MAX_VALUE - 3, 0x10000 + 28};
-        for (int length : wrong) {
-            altersLength(length, -4);
-        }
-    }
-
-    private static void lengthIsKnownWithSixteenBytes() {
-        CHECK.about("fault 4, with sixteen bytes");
-        Pair pair = opened();
-        pair.ask(8, 0, 0, 0, 0);
-        pair.alter(0, 3, 1);
-        pair.move(0, 15);
-        CHECK.due("server() with 15", pair.server(), 2);
-        pair.move(0, 1);
-        CHECK.due("server() with 16", pair.server(), -4);
-        pair = opened();
-        pair.ask(8, 0, 0, 0, 0);
-        pair.alter(0, 63, 1);
-        pair.move(0, 63);
-        CHECK.due("server() with 63, a wrong seal", pair.server(), 2);
-        pair.move(0, 1);
-        CHECK.due("server() with 64", pair.server(), -5);
-    }
-
-    /** A request of 28 bytes whose packet has a length of 28 and says what padding one likes. */
-    private static int stateByPadding(int dir, int padding) {
-        Pair pair = opened();
-        pair.ask(8, 0, 0, 0, 0);
+        pair.askMany(4, 8);
         if (dir == 1) {
-            pair.move(0, 64);
+            pair.move(0, Pair.ALL);
         }
-        byte[] plain = Flow.plain(new byte[22]);
-        plain[4] = (byte) padding;
-        pair.forge(dir, plain);
-        pair.move(dir, 64);
+        return pair;
+    }
+
+    private static int side(Pair pair, int dir) {
         return dir == 0 ? pair.server() : pair.client();
     }
 
-    private static void paddings() {
-        CHECK.about("fault 6");
+    private static void lengthIsKnownWithSixteenBytes() {
+        CHECK.sentence("Terms", "Who opens it knows the length with sixteen bytes");
         for (int dir = 0; dir <= 1; dir++) {
-            for (int padding : new int[] {0, 1, 3, 28, 29, 128, 255}) {
-                CHECK.due("padding " + padding, stateByPadding(dir, padding), -6);
-            }
-            for (int padding : new int[] {4, 6, 26, 27}) {
-                CHECK.due("padding " + padding + ", its payload is not right", stateByPadding(dir, padding), -7);
-            }
+            Pair pair = sent(dir);
+            pair.alter(dir, 3, 1);
+            pair.move(dir, 15);
+            CHECK.due("with 15", side(pair, dir), 2);
+            pair.move(dir, 1);
+            CHECK.due("with 16", side(pair, dir), -4);
         }
-        Pair pair = opened();
-        pair.ask(8, 0, 0, 0, 0);
-        byte[] plain = Flow.plain(Flow.request(1, 8, 0, 0, 0, 0));
-        plain[27] = 99;
-        plain[31] = 99;
-        pair.forge(0, plain);
-        pair.move(0, 64);
-        CHECK.due("the padding's bytes are not looked at", pair.server(), 2);
     }
 
-    /** What the server says to a payload instead of the first of four requests. */
-    private static Pair toServer(byte[] payload) {
-        Pair pair = opened();
+    /** What a side says to the first sixteen bytes of a packet with another length. */
+    private static void length(int dir, int length, int state) {
+        Pair pair = sent(dir);
+        byte[] mask = Flow.word(28 ^ length);
         for (int i = 0; i < 4; i++) {
-            pair.ask(8, 0, 0, 0, 0);
+            pair.alter(dir, i, mask[i]);
         }
-        byte[] plain = Flow.plain(payload);
-        pair.forge(0, plain);
-        pair.move(0, plain.length + 32);
-        return pair;
+        pair.move(dir, 16);
+        CHECK.due("length " + length, side(pair, dir), state);
+        int more = length + 36 - 16;
+        if (state == 2) {
+            pair.move(dir, more - 1);
+            CHECK.due("length " + length + ", a byte lacks", side(pair, dir), 2);
+            pair.move(dir, 1);
+            CHECK.due("length " + length + ", all there", side(pair, dir), length == 28 ? 2 : -5);
+        }
     }
 
-    private static byte[] writeRequest(int c, int data) {
-        return Flow.join(Flow.request(1, 4, 0, 0, c, 0), new byte[data]);
-    }
-
-    private static void requestsThatAreRight() {
-        CHECK.about("requests that are right");
-        for (int kind = 0; kind <= 9; kind++) {
-            CHECK.due("kind " + kind, toServer(Flow.request(1, kind, 7, 7, 0, 7)).server(), 2);
-        }
-        for (int c : new int[] {1, 63, 64}) {
-            CHECK.due("WRITE of " + c, toServer(writeRequest(c, c)).server(), 2);
-        }
-        for (int c : new int[] {0, -1, 65, 256 + 5, Integer.MIN_VALUE, Integer.MAX_VALUE}) {
-            CHECK.due("WRITE of " + c, toServer(writeRequest(c, 0)).server(), 2);
-        }
-        Pair pair = toServer(Flow.request(Integer.MIN_VALUE, 8, 0, 0, 0, 0));
-        CHECK.due("any number is right at the server", pair.server(), 2);
-        pair.move(1, 64);
-        CHECK.due("not at the client", pair.client(), -7);
-        pair = toServer(Flow.request(2, 8, 0, 2, 0, 0));
-        pair.move(1, 64);
-        CHECK.due("another request's number", pair.status(2), 0);
-        CHECK.due("client()", pair.client(), 2);
-        pair.move(0, 64);
-        pair.move(1, 64);
-        CHECK.due("which is then no more PENDING", pair.client(), -7);
-        CHECK.due("status(1)", pair.status(1), GuardedTree.LOST);
-        CHECK.due("status(2)", pair.status(2), 0);
-    }
-
-    private static void requestsThatAreNot() {
-        CHECK.about("requests that are not right, fault 7");
-        byte[] request = Flow.request(1, 8, 0, 0, 0, 0);
-        CHECK.due("no payload", toServer(new byte[0]).server(), -7);
-        CHECK.due("21 bytes", toServer(Arrays.copyOf(request, 21)).server(), -7);
-        CHECK.due("23 bytes", toServer(Arrays.copyOf(request, 23)).server(), -7);
-        CHECK.due("one byte", toServer(new byte[1]).server(), -7);
-        CHECK.due("kind 10", toServer(Flow.request(1, 10, 0, 0, 0, 0)).server(), -7);
-        CHECK.due("kind 255", toServer(Flow.request(1, 255, 0, 0, 0, 0)).server(), -7);
-        CHECK.due("kind 128", toServer(Flow.request(1, 128, 0, 0, 0, 0)).server(), -7);
-        CHECK.due("WRITE without its data", toServer(writeRequest(5, 0)).server(), -7);
-        CHECK.due("WRITE with less", toServer(writeRequest(5, 4)).server(), -7);
-        CHECK.due("WRITE with more", toServer(writeRequest(5, 6)).server(), -7);
-        CHECK.due("WRITE of 0 with data", toServer(writeRequest(0, 1)).server(), -7);
-        CHECK.due("WRITE of 65 with data", toServer(writeRequest(65, 65)).server(), -7);
-        CHECK.due("READ with data", toServer(Flow.join(Flow.request(1, 3, 0, 0, 5, 0), new byte[5])).server(), -7);
-        CHECK.due("a reply", toServer(Flow.reply(1, 0, new byte[0])).server(), -7);
-        CHECK.due("a reply of 22", toServer(Flow.reply(1, 0, new byte[13])).server(), -7);
-        request[0] = 3;
-        CHECK.due("a byte 3", toServer(request).server(), -7);
-        request[0] = -128;
-        CHECK.due("a byte 128", toServer(request).server(), -7);
-        Pair pair = toServer(Flow.request(1, 11, 0, 1, 1, 0));
-        CHECK.due("no reply", pair.way(1), 0);
-        pair.move(0, Pair.ALL);
-        CHECK.due("nothing comes any more", pair.way(1), 0);
-        CHECK.due("credit(1)", pair.credit(1), 0);
-    }
-
-    /** Ten reads whose replies (but five) wait: 220 bytes; only 180 bytes more are right. */
-    private static void requestsBeyondTheCredit() {
-        CHECK.about("requests beyond 400 bytes that were not granted back, fault 7");
-        for (int last : new int[] {26, 27}) {
-            Pair pair = opened();
-            pair.done(2, 0, 1, 1);
-            pair.done(4, 1, 0, 64);
-            pair.open(21);
-            for (int i = 0; i < 10; i++) {
-                pair.ask(3, 1, 0, 64, 0);
+    private static void lengthsOfPackets() {
+        CHECK.sentence("Terms", "below 12, above 124, or not 12 modulo 16");
+        for (int dir = 0; dir <= 1; dir++) {
+            for (int length = 12; length <= 124; length += 16) {
+                length(dir, length, 2);
             }
-            pair.move(0, Pair.ALL);
-            CHECK.due("five replies", pair.way(1), 5 * 128);
-            pair.forgePayload(1, Flow.grant(220));
-            pair.move(1, 128);
-            CHECK.due("credit(0)", pair.credit(0), 400);
-            pair.ask(4, 1, 0, 64, 0);
-            pair.ask(4, 1, 0, 24, 0);
-            pair.ask(4, 1, 0, last, 0);
-            pair.move(0, 128 + 96);
-            CHECK.due("352 bytes", pair.server(), 2);
-            pair.move(0, Pair.ALL);
-            CHECK.due("400 bytes are right, 401 are not", pair.server(), last == 26 ? 2 : -7);
-            CHECK.due("credit(1)", pair.credit(1), last == 26 ? 35 : 0);
+            for (int length = 0; length <= 144; length++) {
+                if (length < 12 || length > 124 || length % 16 != 12) {
+                    length(dir, length, -4);
+                }
+            }
         }
     }
 
-    /** What the client says to a payload instead of the reply to the first of two requests. */
-    private static Pair toClient(byte[] payload) {
-        Pair pair = opened();
-        pair.done(8, 0, 0, 0);
-        for (int i = 0; i < 4; i++) {
-            pair.ask(8, 0, 0, 0, 0);
-        }
-        pair.move(0, Pair.ALL);
-        byte[] plain = Flow.plain(payload);
-        pair.forge(1, plain);
-        pair.move(1, plain.length + 32);
-        return pair;
-    }
-
-    private static void repliesThatAreRight() {
-        CHECK.about("replies that are right");
-        byte[] read = new byte[64];
-        for (int i = 0; i < 64; i++) {
-            read[i] = (byte) (200 + i);
-        }
-        for (int count : new int[] {0, 1, 63, 64}) {
-            Pair pair = toClient(Flow.reply(3, count - 500, Arrays.copyOf(read, count)));
-            CHECK.due("client() with " + count, pair.client(), 2);
-            CHECK.due("status(3)", pair.status(3), count - 500);
-            CHECK.due("status(2)", pair.status(2), GuardedTree.PENDING);
-            CHECK.due("the last byte", pair.data(3, count - 1), count == 0 ? Pair.THROWN : 200 + count - 1 & 255);
-            CHECK.due("no more", pair.data(3, count), Pair.THROWN);
-        }
-        Pair pair = toClient(Flow.reply(2, GuardedTree.PENDING, new byte[0]));
-        CHECK.due("a status that looks like PENDING", pair.status(2), GuardedTree.PENDING);
-        pair.forge(1, Flow.plain(Flow.reply(2, 5, new byte[0])));
-        pair.move(1, 64);
-        CHECK.due("but is none", pair.client(), -7);
-        CHECK.due("status(2)", pair.status(2), GuardedTree.PENDING);
-        CHECK.due("status(3)", pair.status(3), GuardedTree.LOST);
-    }
-
-    private static void repliesThatAreNot() {
-        CHECK.about("replies that are not right, fault 7");
-        byte[] none = new byte[0];
-        CHECK.due("no payload", toClient(none).client(), -7);
-        CHECK.due("8 bytes", toClient(Arrays.copyOf(Flow.reply(2, 0, none), 8)).client(), -7);
-        CHECK.due("74 bytes", toClient(Flow.reply(2, 0, new byte[65])).client(), -7);
-        CHECK.due("number 0", toClient(Flow.reply(0, 0, none)).client(), -7);
-        CHECK.due("number 1, answered", toClient(Flow.reply(1, 0, none)).client(), -7);
-        CHECK.due("number 6, not asked", toClient(Flow.reply(6, 0, none)).client(), -7);
-        CHECK.due("number -1", toClient(Flow.reply(-1, 0, none)).client(), -7);
-        CHECK.due("number 2^24", toClient(Flow.reply(1 << 24, 0, none)).client(), -7);
-        CHECK.due("a request", toClient(Flow.request(2, 8, 0, 0, 0, 0)).client(), -7);
-        CHECK.due("a byte 3", toClient(Flow.join(new byte[] {3}, Flow.word(2), Flow.word(0))).client(), -7);
-        Pair pair = toClient(Flow.reply(6, 0, none));
-        CHECK.due("LOST", pair.status(2), GuardedTree.LOST);
-        CHECK.due("answered before", pair.status(1), 1);
-        pair = opened();
-        int lost = pair.ask(8, 0, 0, 0, 0);
-        pair.open(21);
-        pair.ask(8, 0, 0, 0, 0);
-        pair.move(0, 64);
-        pair.forge(1, Flow.plain(Flow.reply(lost, 0, none)));
-        pair.move(1, 64);
-        CHECK.due("a LOST request's number", pair.client(), -7);
-    }
-
-    private static void grants() {
-        CHECK.about("grants at the server, of whose credit nothing is spent");
-        CHECK.due("1", toServer(Flow.grant(1)).server(), -7);
-        CHECK.about("grants at the client, of whose credit 110 bytes are spent");
-        for (int amount : new int[] {1, 2, 109, 110}) {
-            Pair pair = toClient(Flow.grant(amount));
-            CHECK.due("client(), " + amount, pair.client(), 2);
-            CHECK.due("credit(0)", pair.credit(0), 290 + amount);
-        }
-        for (int amount : new int[] {0, -1, 111, 400, Integer.MIN_VALUE, Integer.MAX_VALUE}) {
-            CHECK.due("client(), " + amount, toClient(Flow.grant(amount)).client(), -7);
-        }
-        CHECK.due("4 bytes", toClient(Arrays.copyOf(Flow.grant(1), 4)).client(), -7);
-        CHECK.due("6 bytes", toClient(Arrays.copyOf(Flow.grant(1), 6)).client(), -7);
-        CHECK.about("grants at the server, of whose credit 9 bytes are spent");
-        for (int amount : new int[] {0, 1, 9, 10, -5}) {
-            Pair pair = opened();
-            pair.ask(8, 0, 0, 0, 0);
-            pair.ask(8, 0, 0, 0, 0);
-            pair.move(0, 64);
-            pair.forgePayload(0, Flow.grant(amount));
-            pair.move(0, 64);
-            boolean right = amount == 1 || amount == 9;
-            CHECK.due("server(), " + amount, pair.server(), right ? 2 : -7);
-            CHECK.due("credit(1)", pair.credit(1), right ? 391 + amount : 0);
+    private static void lengthsWithTheirSign() {
+        CHECK.sentence("Terms", "fault 4 if it (with its sign) is below 12");
+        int[] wrong = {-1, -4, -20, -116, 0x010c, 0x011c, 0x0100001c, 0x8000001c, 0xffffff1c, Integer.MAX_VALUE - 3,
+            Integer.MAX_VALUE, Integer.MIN_VALUE, Integer.MIN_VALUE + 12};
+        for (int dir = 0; dir <= 1; dir++) {
+            for (int length : wrong) {
+                length(dir, length, -4);
+            }
         }
     }
 
-    private static void longPackets() {
-        CHECK.about("a packet of 160 bytes, with more padding than it needs");
-        Pair pair = opened();
-        for (int i = 0; i < 4; i++) {
-            pair.ask(8, 0, 0, 0, 0);
-        }
-        pair.forge(0, Flow.plain(Flow.request(1, 8, 0, 0, 0, 0), 124 - 1 - 22));
+    private static void longestPacket() {
+        CHECK.sentence("Terms", "above 124");
+        Pair pair = sent(0);
+        pair.forge(0, Flow.plain(TELL_ROOT, 124 - 1 - 22));
         pair.move(0, 159);
-        CHECK.due("way(1)", pair.way(1), 0);
+        CHECK.due("way(1) with 159", pair.way(1), 0);
         pair.move(0, 1);
-        CHECK.due("server()", pair.server(), 2);
-        CHECK.due("way(1)", pair.way(1), 64);
+        CHECK.due("server() with 160", pair.server(), 2);
+        CHECK.due("way(1) with 160", pair.way(1), 64);
         pair.move(1, 64);
         CHECK.due("status(1)", pair.status(1), 1);
+        pair = sent(1);
+        pair.forge(1, Flow.plain(Flow.reply(1, 5, new byte[64]), 124 - 1 - 73));
+        pair.move(1, 159);
+        CHECK.due("status(1) with 159", pair.status(1), GuardedTree.PENDING);
+        pair.move(1, 1);
+        CHECK.due("status(1) with 160", pair.status(1), 5);
+    }
+
+    private static void sealIsKnownWithTheLastByte() {
+        CHECK.sentence("Terms", "when all of it is there with its seal: fault 5 if the seal is another one");
+        for (int dir = 0; dir <= 1; dir++) {
+            for (int i = 32; i < 64; i++) {
+                Pair pair = sent(dir);
+                pair.alter(dir, i, 1 << i % 8);
+                pair.move(dir, 63);
+                CHECK.due("with 63, byte " + i + " is another one", side(pair, dir), 2);
+                pair.move(dir, 1);
+                CHECK.due("with 64, byte " + i + " is another one", side(pair, dir), -5);
+            }
+        }
+    }
+
+    private static void everyByteIsSealed() {
+        CHECK.sentence("Terms", "and the packet as it was before");
+        for (int dir = 0; dir <= 1; dir++) {
+            for (int i = 4; i < 32; i++) {
+                Pair pair = sent(dir);
+                pair.alter(dir, i, 1 << i % 8);
+                pair.move(dir, 64);
+                CHECK.due("byte " + i + " is another one", side(pair, dir), -5);
+            }
+            Pair pair = sent(dir);
+            pair.alter(dir, 3, 28 ^ 12);
+            pair.move(dir, 48);
+            CHECK.due("the length is another one", side(pair, dir), -5);
+        }
+    }
+
+    /** What a side says to a packet of a length that tells a padding, a payload of zeros before it. */
+    private static void padding(int dir, int length, int padding, int state) {
+        Pair pair = sent(dir);
+        byte[] plain = new byte[4 + length];
+        plain[3] = (byte) length;
+        plain[4] = (byte) padding;
+        pair.forge(dir, plain);
+        pair.move(dir, plain.length + 32);
+        CHECK.due("length " + length + ", padding " + padding, side(pair, dir), state);
+    }
+
+    private static void paddingBelowFour() {
+        CHECK.sentence("Terms", "fault 6 if the padding is below 4");
+        for (int dir = 0; dir <= 1; dir++) {
+            for (int padding = 0; padding <= 3; padding++) {
+                padding(dir, 28, padding, -6);
+                padding(dir, 12, padding, -6);
+            }
+            padding(dir, 28, 4, -7);
+            padding(dir, 12, 4, -7);
+        }
+        Pair pair = sent(0);
+        pair.forge(0, Flow.plain(Flow.join(TELL_ROOT, new byte[1]), 4));
+        pair.move(0, 64);
+        CHECK.due("server(), padding 4 of 23 bytes", pair.server(), -7);
+        byte[] write = Flow.join(Flow.request(1, 4, 0, 0, 1, 0), new byte[1]);
+        for (int padding = 3; padding <= 4; padding++) {
+            pair = sent(0);
+            byte[] plain = Flow.plain(write, 4);
+            plain[4] = (byte) padding;
+            pair.forge(0, plain);
+            pair.move(0, 64);
+            CHECK.due("server(), WRITE of 1, padding " + padding, pair.server(), padding == 4 ? 2 : -6);
+        }
+    }
+
+    private static void paddingAboveTheLength() {
+        CHECK.sentence("Terms", "or more than the length less 1");
+        for (int dir = 0; dir <= 1; dir++) {
+            for (int length = 12; length <= 124; length += 56) {
+                int right = length - length % 16 + 12;
+                padding(dir, right, right - 1, -7);
+                padding(dir, right, right, -6);
+                padding(dir, right, right + 1, -6);
+                padding(dir, right, 128, -6);
+                padding(dir, right, 255, -6);
+            }
+        }
+    }
+
+    private static void firstFaultCounts() {
+        CHECK.sentence("Terms", "fault 5 if the seal is another one; fault 6 if the padding is below 4");
+        for (int dir = 0; dir <= 1; dir++) {
+            Pair pair = sent(dir);
+            byte[] plain = new byte[32];
+            plain[3] = 28;
+            pair.forge(dir, plain);
+            pair.alter(dir, 40, 1);
+            pair.move(dir, 64);
+            CHECK.due("wrong seal, padding and payload", side(pair, dir), -5);
+            pair = sent(dir);
+            pair.forge(dir, plain);
+            pair.move(dir, 64);
+            CHECK.due("wrong padding and payload", side(pair, dir), -6);
+        }
+    }
+
+    private static void overWithAFault() {
+        CHECK.sentence("Terms", "With a fault a side is OVER: what came to it and comes vanishes");
+        for (int fault = 4; fault <= 7; fault++) {
+            Pair pair = sent(0);
+            pair.move(0, 64);
+            pair.fault(0, fault);
+            CHECK.due("server()", pair.server(), -fault);
+            CHECK.due("way(1), the reply that went out before", pair.way(1), 64);
+            CHECK.due("what comes", pair.move(0, Pair.ALL), 128);
+            CHECK.due("way(1), no reply more", pair.way(1), 64);
+            CHECK.due("credit(1)", pair.credit(1), 0);
+            CHECK.due("server() stays", pair.server(), -fault);
+            pair = sent(1);
+            pair.move(1, 64);
+            pair.fault(1, fault);
+            CHECK.due("client()", pair.client(), -fault);
+            CHECK.due("what comes", pair.move(1, Pair.ALL), 128);
+            CHECK.due("status(1), before it", pair.status(1), GuardedTree.NO_NODE);
+            CHECK.due("status(3), behind it", pair.status(3), GuardedTree.LOST);
+            CHECK.due("credit(0)", pair.credit(0), 0);
+            CHECK.due("ask", pair.ask(8, 0, 0, 0, 0), GuardedTree.NONE);
+        }
+    }
+
+    private static void overLosesRepliesThatWait() {
+        CHECK.sentence("Terms", "and replies that wait, until there is another connection");
+        for (int fault = 4; fault <= 7; fault++) {
+            Pair pair = Pair.withFile(CHECK);
+            pair.askMany(7, 3);
+            pair.move(0, 6 * 64);
+            CHECK.due("way(1), five of six", pair.way(1), 5 * 128);
+            pair.fault(0, fault);
+            CHECK.due("server()", pair.server(), -fault);
+            pair.move(1, Pair.ALL);
+            CHECK.due("the client's grant vanishes", pair.move(0, Pair.ALL), 48);
+            CHECK.due("way(1), nothing more", pair.way(1), 0);
+            CHECK.due("status(7)", pair.status(7), 64);
+            CHECK.due("status(8)", pair.status(8), GuardedTree.PENDING);
+            pair.open(2);
+            CHECK.due("status(8)", pair.status(8), GuardedTree.LOST);
+            CHECK.due("nothing of old on a new connection", pair.done(8, 0, 0, 0), 1);
+        }
+    }
+
+    private static void overUntilAnotherConnection() {
+        CHECK.sentence("Terms", "until there is another connection");
+        for (int dir = 0; dir <= 1; dir++) {
+            Pair pair = sent(dir);
+            pair.fault(dir, 5);
+            pair.start();
+            pair.cut(5, 5);
+            CHECK.due("it stays", side(pair, dir), -5);
+            pair.connect(2);
+            CHECK.due("another connection", side(pair, dir), 1);
+            pair.move(0, 32);
+            pair.move(1, 96);
+            CHECK.due("open", side(pair, dir), 2);
+            CHECK.due("a request", pair.done(8, 0, 0, 0), 1);
+        }
     }
 }

@@ -1,4 +1,7 @@
+import java.util.ArrayList;
 import java.util.Arrays;
+import java.util.List;
+import java.util.function.IntSupplier;
 
 /**
  * An object of the class and the model beside it: each call goes to both, and an answer that differs is told.
@@ -19,6 +22,22 @@ final class Pair {
 
     int calls() {
         return calls;
+    }
+
+    /** A pair with both sides open. */
+    static Pair opened(Check check, int seed) {
+        Pair pair = new Pair(check);
+        pair.open(seed);
+        return pair;
+    }
+
+    /** A pair with both sides open, of whose credits nothing is spent, and a file 1 of 64 bytes in the root. */
+    static Pair withFile(Check check) {
+        Pair pair = opened(check, 1);
+        pair.done(2, 0, 1, 1);
+        pair.done(4, 1, 0, 64);
+        pair.open(1);
+        return pair;
     }
 
     private int same(String call, int got, int want) {
@@ -167,6 +186,96 @@ final class Pair {
 
     int done(int kind, int a, int b, int c) {
         return done(kind, a, b, c, 0);
+    }
+
+    /** So many requests of the same kind, for file or directory 1. */
+    void askMany(int count, int kind) {
+        for (int i = 0; i < count; i++) {
+            ask(kind, 1, 0, 64, 0);
+        }
+    }
+
+    /** Power goes at a request that would take the least free node for a directory. */
+    void losePower() {
+        cut(0, 0);
+        ask(1, 0, 99, 99, 0);
+        move(0, ALL);
+        check.due("server(), power is lost", server(), GuardedTree.NO_POWER);
+    }
+
+    /** Every byte on the way, from one on. */
+    void lookAtAll(int dir, int from) {
+        int count = way(dir);
+        for (int i = from; i < count; i++) {
+            octet(dir, i);
+        }
+    }
+
+    /** The packet of 64 bytes that is next on the way comes to its side altered, so that this has a fault (4 to 7). */
+    void fault(int dir, int fault) {
+        if (fault <= 5) {
+            alter(dir, fault == 4 ? 0 : 63, 128);
+        } else {
+            byte[] plain = model.opener(dir).mask(Arrays.copyOf(model.ways[dir], 32));
+            plain[4] = (byte) (fault == 6 ? 3 : 27);
+            forge(dir, plain);
+        }
+        move(dir, 64);
+    }
+
+    /** What can be seen without changing anything (of a long way its beginning). */
+    List<Integer> seen() {
+        List<Integer> row = new ArrayList<>(List.of(client(), server(), changes(), credit(0), credit(1)));
+        for (int dir = 0; dir <= 1; dir++) {
+            int count = way(dir);
+            row.add(count);
+            for (int i = 0; i < Math.min(count, 70); i++) {
+                row.add(octet(dir, i));
+            }
+        }
+        int last = model.asked();
+        for (int id = Math.max(0, last - 20); id <= last + 1; id++) {
+            row.add(status(id));
+            row.add(data(id, 0));
+        }
+        return row;
+    }
+
+    /** A call that is to be refused: it answers so, and all that can be seen is as it was. */
+    void refused(String what, IntSupplier call, int want) {
+        List<Integer> before = seen();
+        check.due(what, call.getAsInt(), want);
+        check.due(what + " changes nothing", before.equals(seen()), true);
+    }
+
+    /** What can be seen only by changing something: words that were put, next numbers, the tree, what is set to go. */
+    void goOn() {
+        put(0x01020304);
+        moveAll();
+        lookAtSides();
+        start();
+        open(-5);
+        lookAtSides();
+        done(9, 0, 0, 0);
+        done(2, 0, 77, 77);
+        done(4, 1, 0, 64);
+        int id = ask(3, 1, 0, 64, 0);
+        moveAll();
+        for (int i = 0; i < 64; i += 4) {
+            data(id, i + 3);
+        }
+        put(1);
+        lookAtSides();
+    }
+
+    private void lookAtSides() {
+        client();
+        server();
+        changes();
+        for (int side = 0; side <= 1; side++) {
+            credit(side);
+            way(side);
+        }
     }
 
     /** Alters the bytes on the way into others, from the first one on. */

