@@ -11,8 +11,10 @@ final class CreditTest {
         asMuchMoreAsGranted();
         clientGrantsFromTwoHundred();
         clientGrantsBehindThatReply();
+        requestsAreDoneAsTheyCome();
         repliesInTheirOrder();
         creditForTheFirstReply();
+        longestRowOfReplies();
         serverGrantsFromTwoHundred();
         serverGrantsForRepliesThatWentOut();
         looksBehindEachPacket();
@@ -167,6 +169,24 @@ final class CreditTest {
         CHECK.due("credit(1)", pair.credit(1), 400 - 73);
     }
 
+    private static void requestsAreDoneAsTheyCome() {
+        CHECK.sentence("Terms", "The server does requests as they come, in their order");
+        Pair pair = Pair.withFile(CHECK);
+        pair.askMany(6, 3);
+        pair.put(-1);
+        pair.ask(4, 1, 0, 4, 0);
+        pair.ask(3, 1, 0, 4, 0);
+        pair.move(0, Pair.ALL);
+        CHECK.due("way(1), the sixth READ and what is behind it wait", pair.way(1), 5 * 128);
+        CHECK.due("changes(), the WRITE is done", pair.changes(), 3);
+        pair.moveAll();
+        pair.moveAll();
+        CHECK.due("status(8)", pair.status(8), 64);
+        CHECK.due("data(8, 0), as it was before the WRITE", pair.data(8, 0), 0);
+        CHECK.due("status(9)", pair.status(9), 4);
+        CHECK.due("data(10, 0), as it is behind the WRITE", pair.data(10, 0), 255);
+    }
+
     private static void repliesInTheirOrder() {
         CHECK.sentence("Terms", "in their order; their replies wait in a row, and go out one by one");
         Pair pair = Pair.withFile(CHECK);
@@ -198,6 +218,35 @@ final class CreditTest {
             CHECK.due("credit(1), " + amount + " more", pair.credit(1), amount == 38 ? 0 : 72);
             CHECK.due("way(1)", pair.way(1), (amount == 38 ? 6 : 5) * 128);
         }
+    }
+
+    /** When the server has granted all back and spent all credit, 18 requests (396 bytes) can wait at once. */
+    private static void longestRowOfReplies() {
+        CHECK.sentence("Terms", "their replies wait in a row, and go out one by one");
+        Pair pair = Pair.withFile(CHECK);
+        pair.askMany(4, 3);
+        pair.askMany(10, 8);
+        pair.move(0, Pair.ALL);
+        grantClient(pair, 14 * 22, 128);
+        pair.ask(4, 9, 0, 64, 0);
+        pair.ask(4, 9, 0, 64, 0);
+        pair.move(0, Pair.ALL);
+        CHECK.due("credit(1)", pair.credit(1), 0);
+        CHECK.due("way(1), 15 replies and two grants", pair.way(1), 3 * 128 + 12 * 64 + 2 * 48);
+        grantClient(pair, 2 * 86, 128);
+        for (int i = 0; i < 18; i++) {
+            pair.ask(8, 1, i % 3, 0, 0);
+        }
+        pair.move(0, Pair.ALL);
+        CHECK.due("server(), 18 wait", pair.server(), 2);
+        CHECK.due("way(1)", pair.way(1), 2 * 128 + 12 * 64 + 2 * 48);
+        pair.move(1, 2 * 128 + 6 * 64);
+        CHECK.due("way(0), a grant of 200", pair.way(0), 48);
+        int before = pair.way(1);
+        pair.move(0, 48);
+        CHECK.due("credit(1)", pair.credit(1), 200 - 18 * 9);
+        CHECK.due("way(1), 18 replies and a grant", pair.way(1), before + 18 * 64 + 48);
+        pair.lookAtAll(1, pair.way(1) - 64);
     }
 
     private static void serverGrantsFromTwoHundred() {

@@ -360,6 +360,16 @@ final class TreeTest {
         due(pair, 0, 6, 1, 0, 0, 0);
         due(pair, 10, 6, 2, 0, 0, 0);
         due(pair, WRONG, 6, 0, 0, 0, 0);
+        for (int node = 1; node <= 63; node++) {
+            due(pair, node, 1, 0, node, node, 0);
+        }
+        for (int inside : new int[] {1, 2, 62, 63}) {
+            int outside = inside == 1 ? 2 : 1;
+            due(pair, inside, 7, inside, outside, 9, 9);
+            due(pair, NOT_EMPTY, 6, outside, 0, 0, 0);
+            due(pair, inside, 7, inside, 0, inside, inside);
+        }
+        due(pair, 0, 6, 1, 0, 0, 0);
     }
 
     private static void goes() {
