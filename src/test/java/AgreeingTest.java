@@ -259,6 +259,7 @@ final class AgreeingTest {
         pair.move(0, 64);
         pair.lookAtAll(1, 0);
     }
+
     private static void keysOfTwoDigests() {
         CHECK.sentence("Terms",
             "the digest of the common number, the hash and a byte L, and that of the same with L + 1");
